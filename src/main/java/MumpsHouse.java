@@ -15,6 +15,7 @@ public final class MumpsHouse {
     /** The document tells no bound for what texts of @ in each other may do in one turn. */
     private static final int MOST_STEPS = 1000000;
 
+    private static final int LOWEST = -30;
     private static final long BILLION = 1000000000L;
     private static final long[] POWERS = {1L, 10L, 100L, 1000L, 10000L, 100000L, 1000000L, 10000000L, 100000000L,
         1000000000L, 10000000000L, 100000000000L, 1000000000000L, 10000000000000L, 100000000000000L,
@@ -194,13 +195,17 @@ public final class MumpsHouse {
             if (chosen == NONE) break;
             went += chosen;
             for (int k = 0; chosen == 1 && machine.phase != STOPPED; k++) {
+                int word = machine.error == 0 && machine.phase == GOING ? machine.fetch() : NO_OP, op = word & 255;
                 if (k > MOST_STEPS) machine.stopRunning();
                 else if (machine.error != 0) machine.unwind();
                 else if (machine.phase >= READING) machine.readingEnded(machine.work.text.readPiece(machine.phase - READING));
                 else if (machine.phase == LINE_OVER) machine.endLine();
                 else if (machine.phase == LEVEL_OVER || machine.phase == LEVEL_VALUED) machine.endLevel(machine.phase == LEVEL_VALUED);
                 else if (machine.phase == RESTARTING) machine.restart();
-                else machine.step();
+                else if (op <= LAST_OF_EXPRESSIONS) machine.expression(op, word >>> 8);
+                else if (op <= LAST_OF_ENTRIES) machine.enter(op, word >>> 8);
+                else if (op <= LAST_OF_FLOW) machine.flow(op, word >>> 8);
+                else machine.act(op, word >>> 8);
             }
         }
         return went;
@@ -348,13 +353,23 @@ public final class MumpsHouse {
         int units = 0, block = 1;
         for (int s = 0; s < BLOCKS && block <= house.used; s++) {
             block = house.gather(block);
-            int at = 0;
-            for (int u = 0; u < BLOCKS * LOAD; u++) {
-                int behind = behindUnit(at);
-                if (behind == 0) break;
-                redo(at, behind);
-                units++;
-                at = behind;
+            int at = 0, behind = behindUnit(0);
+            for (int u = 0; u < BLOCKS * LOAD && behind > 0; u++) {
+                // first all of its texts are read, then it is done
+                for (int p = at; p + 1 < behind; p = Math.max(p + 1, house.behindRecord(p, node, value))) {
+                    house.behindRecord(p, node, value);
+                    if (house.waiting.at(p) == ROUTINE_RECORD && !readSpare()) behind = 0;
+                }
+                for (int p = at; p + 1 < behind; p = Math.max(p + 1, house.behindRecord(p, node, value))) {
+                    house.behindRecord(p, node, value);
+                    if (house.waiting.at(p) == ROUTINE_RECORD) readSpare();
+                    redo(house.waiting.at(p));
+                }
+                if (behind > 0) {
+                    units++;
+                    at = behind;
+                    behind = behindUnit(at);
+                }
             }
         }
         house.waiting.clear();
@@ -368,10 +383,8 @@ public final class MumpsHouse {
             if (i > 0 && house.waiting.at(at) == 0) return at + 1;
             int behind = house.behindRecord(at, node, value);
             if (behind == 0) return 0;
-            if (house.waiting.at(at) == ROUTINE_RECORD) {
-                if (isFresh(from, at)) room--;
-                if (room < 0 || !readSpare()) return 0;
-            }
+            if (house.waiting.at(at) == ROUTINE_RECORD && isFresh(from, at)) room--;
+            if (room < 0) return 0;
             at = behind;
         }
         return 0;
@@ -381,28 +394,22 @@ public final class MumpsHouse {
     private boolean isFresh(int from, int at) {
         long name = node.name;
         boolean fresh = house.routineOf(name) < 0;
-        for (int p = from; p < at && p >= from;) {
-            int type = house.waiting.at(p), behind = house.behindRecord(p, node, value);
-            if (type == ROUTINE_RECORD && node.name == name) fresh = false;
-            p = behind > p ? behind : at;
+        for (int p = from; p < at; p = Math.max(p + 1, house.behindRecord(p, node, value))) {
+            house.behindRecord(p, node, value);
+            if (house.waiting.at(p) == ROUTINE_RECORD && node.name == name) fresh = false;
         }
-        house.behindRecord(at, node, value);
         return fresh;
     }
 
-    /** Does a unit's records again; a value for which there is no room is left out. */
-    private void redo(int from, int end) {
-        for (int at = from; at + 1 < end;) {
-            int type = house.waiting.at(at), behind = house.behindRecord(at, node, value);
-            if (type == SET_RECORD) {
-                house.globals.put(node, value);
-            } else if (type == KILL_RECORD) {
-                house.globals.run(node);
-                house.globals.removeRun();
-            } else if (readSpare()) {
-                house.keep(node.name);
-            }
-            at = behind > at ? behind : end;
+    /** Does the record that was read again; a value for which there is no room is left out. */
+    private void redo(int type) {
+        if (type == SET_RECORD) {
+            house.globals.put(node, value);
+        } else if (type == KILL_RECORD) {
+            house.globals.run(node);
+            house.globals.removeRun();
+        } else {
+            house.keep(node.name);
         }
     }
 
@@ -504,14 +511,6 @@ public final class MumpsHouse {
         }
     }
 
-    private static boolean isCapital(int c) {
-        return c >= 'A' && c <= 'Z';
-    }
-
-    private static boolean isSmall(int c) {
-        return c >= 'a' && c <= 'z';
-    }
-
     private static boolean isDigit(int c) {
         return c >= '0' && c <= '9';
     }
@@ -530,7 +529,8 @@ public final class MumpsHouse {
         int i = 0;
         for (; i < LONGEST_NAME && start >= 0 && start + i < end && start + i < from.length; i++) {
             int c = from[start + i] & 255;
-            if (!goesOnName(c) && !(i == 0 && c == '%')) break;
+            boolean letter = c >= 'A' && c <= 'Z' || c >= 'a' && c <= 'z';
+            if (!letter && !(c >= '0' && c <= '9') && !(i == 0 && c == '%')) break;
             name = name << 8 | c;
         }
         return i == 0 ? 0 : name << 8 * (LONGEST_NAME - i);
@@ -569,33 +569,27 @@ public final class MumpsHouse {
             return n;
         }
 
-        /** Becomes value (of 18 digits at most, the digit behind it is told) times 10^power, FITTED: 0 or the error. */
-        private int fit(boolean minus, long value, int behind, int power) {
+        /**
+         * Becomes value (of 18 digits at most, the digit behind it is told) times 10^power, rounded by that digit and
+         * then to a whole number of times 10^lowest: 0 or the error.
+         */
+        private int fit(boolean minus, long value, int behind, int power, int lowest) {
             long v = behind >= 5 ? value + 1 : value;
-            int p = power;
-            for (int round = 0; round < 2; round++) {
-                for (int i = 0; i < 19 && v != 0 && v % 10 == 0; i++) {
-                    v /= 10;
-                    p++;
-                }
-                if (v == 0 || p >= -30) break;
-                v = without(v, -30 - p);
-                p = -30;
+            int p = power, drop = lowest - power;
+            if (drop > 0) {
+                v = drop > 19 ? 0 : v / POWERS[drop - 1] / 10 + (v / POWERS[drop - 1] % 10 >= 5 ? 1 : 0);
+                p = lowest;
             }
+            for (int i = 0; i < 19 && v != 0 && v % 10 == 0; i++) {
+                v /= 10;
+                p++;
+            }
+            m = minus ? -v : v;
+            e = v == 0 ? 0 : p;
+            if (v == 0 || p < 12 || p < 30 && v < POWERS[30 - p]) return 0;
             m = 0;
             e = 0;
-            if (v == 0) return 0;
-            if (digits(v) + p > 30) return TOO_GREAT;
-            m = minus ? -v : v;
-            e = p;
-            return 0;
-        }
-
-        /** Without its last digits, rounded. */
-        private static long without(long v, int drop) {
-            if (drop < 1) return v;
-            if (drop > 18) return 0;
-            return v / POWERS[drop - 1] / 10 + (v / POWERS[drop - 1] % 10 >= 5 ? 1 : 0);
+            return TOO_GREAT;
         }
 
         /** Reads the longest front from a place on that is a number: 0 or the error. */
@@ -622,8 +616,8 @@ public final class MumpsHouse {
                     if (point) power--;
                 }
             }
-            if (!any) return fit(false, 0, 0, 0);
-            return fit(minus, v, behind, power + exponent(from, i, last));
+            if (!any) return fit(false, 0, 0, 0, LOWEST);
+            return fit(minus, v, behind, power + exponent(from, i, last), LOWEST);
         }
 
         /** What the E at a place tells; 0 if there is none that is whole. */
@@ -634,7 +628,7 @@ public final class MumpsHouse {
             boolean minus = i < end && i < from.length && from[i] == '-';
             if (minus || i < end && i < from.length && from[i] == '+') i++;
             int n = 0;
-            for (; i < end && i < from.length && isDigit(from[i]); i++) n = Math.min(999, n * 10 + from[i] - '0');
+            for (; i < end && i < from.length && from[i] >= '0' && from[i] <= '9'; i++) n = Math.min(999, n * 10 + from[i] - '0');
             return minus ? -n : n;
         }
 
@@ -660,7 +654,7 @@ public final class MumpsHouse {
             }
             boolean apart = m < 0 != n.m < 0;
             int c = apart ? compareSize(n) : 1;
-            if (c == 0) return fit(false, 0, 0, 0);
+            if (c == 0) return fit(false, 0, 0, 0, LOWEST);
             boolean minus = c < 0 ? n.m < 0 : m < 0;
             for (int i = 0; i < row.length; i++) row[i] = 0;
             spread(this, c < 0 ? -1 : 1);
@@ -689,7 +683,7 @@ public final class MumpsHouse {
             long v = 0;
             int i = top;
             for (; i >= 0 && i > top - 18; i--) v = v * 10 + row[i];
-            return fit(minus, v, i >= 0 && i < row.length ? row[i] : 0, i + 1 - 30);
+            return fit(minus, v, i >= 0 && i < row.length ? row[i] : 0, i + 1 - 30, LOWEST);
         }
 
         private int multiply(long by, int power) {
@@ -700,8 +694,8 @@ public final class MumpsHouse {
             long high = x / BILLION * (y / BILLION) + middle / BILLION;
             long rest = middle % BILLION * BILLION + low % BILLION;
             int n = digits(high);
-            if (n < 1 || n > 18) return fit(minus, rest, 0, e + power);
-            return fit(minus, high * POWERS[18 - n] + rest / POWERS[n], (int) (rest / POWERS[n - 1] % 10), e + power + n);
+            if (n < 1 || n > 18) return fit(minus, rest, 0, e + power, LOWEST);
+            return fit(minus, high * POWERS[18 - n] + rest / POWERS[n], (int) (rest / POWERS[n - 1] % 10), e + power + n, LOWEST);
         }
 
         /** The exact quotient, or that cut to a whole number. */
@@ -711,7 +705,7 @@ public final class MumpsHouse {
             boolean minus = m < 0 != by.m < 0;
             long v = x / y, left = x % y;
             int power = e - by.e, behind = -1;
-            if (whole && power < 0) return fit(minus, power < -18 ? 0 : v / POWERS[-power], 0, 0);
+            if (whole && power < 0) return fit(minus, power < -18 ? 0 : v / POWERS[-power], 0, 0, LOWEST);
             int steps = whole ? power : 60;
             if (whole) power = 0;
             for (int i = 0; i < steps && (whole || left != 0 && behind < 0); i++) {
@@ -725,7 +719,7 @@ public final class MumpsHouse {
                     if (whole) power++;
                 }
             }
-            return fit(minus, v, behind, power);
+            return fit(minus, v, behind, power, LOWEST);
         }
 
         /** Less by times the greatest whole number not above the quotient; changes the sign of by. */
@@ -741,8 +735,8 @@ public final class MumpsHouse {
                 left = x % (y * POWERS[apart]);
             }
             boolean minus = by.m < 0;
-            if (left == 0 || minus == m < 0) return fit(minus, left, 0, low);
-            fit(true, left, 0, low);
+            if (left == 0 || minus == m < 0) return fit(minus, left, 0, low, LOWEST);
+            fit(true, left, 0, low, LOWEST);
             by.m = y;
             int error = add(by);
             if (minus) m = -m;
@@ -789,11 +783,7 @@ public final class MumpsHouse {
 
         /** Rounded, with so many digits behind the point, all of them written. */
         private void fixed(Row to, int places) {
-            if (e < -places) {
-                long v = without(Math.abs(m), -places - e);
-                m = m < 0 ? -v : v;
-                e = -places;
-            }
+            fit(m < 0, Math.abs(m), 0, e, -places);
             if (m < 0) to.add('-');
             for (int i = Math.max(digits(Math.abs(m)) + e - 1, 0); i >= 0; i--) to.add('0' + digitAt(i));
             if (places > 0) to.add('.');
@@ -1385,10 +1375,12 @@ public final class MumpsHouse {
         /** Reads a name: its place. */
         private int readName() {
             int from = at;
-            boolean right = at < length && at < bytes.length && beginsName(bytes[at]);
-            if (right) at++;
-            while (right && at < length && at < bytes.length && goesOnName(bytes[at])) at++;
-            if (!right || at - from > LONGEST_NAME) {
+            for (; at < length && at < bytes.length; at++) {
+                int c = bytes[at];
+                boolean letter = c >= 'A' && c <= 'Z' || c >= 'a' && c <= 'z';
+                if (!letter && (at == from ? c != '%' : c < '0' || c > '9')) break;
+            }
+            if (at == from || at - from > LONGEST_NAME) {
                 if (fault < 0) fault = from;
                 at = length;
             }
@@ -1398,7 +1390,7 @@ public final class MumpsHouse {
         /** Reads digits, none or some: their place. */
         private int digits(int most) {
             int from = at;
-            while (at < length && at < bytes.length && isDigit(bytes[at])) at++;
+            while (at < length && at < bytes.length && bytes[at] >= '0' && bytes[at] <= '9') at++;
             if (at - from > most) {
                 if (fault < 0) fault = from;
                 at = length;
@@ -1531,8 +1523,11 @@ public final class MumpsHouse {
                 boolean begun = false;
                 if (peek() == '@' && command != C_FOR && command != C_QUIT && command != C_JOB && command != C_TSTART) {
                     begun = indirect(command);
-                    if (!begun && !accept(',')) return;
-                    if (!begun) continue;
+                    if (!begun) {
+                        if (command == C_DO || command == C_GOTO || command == C_XECUTE) conditioned(body);
+                        if (!accept(',')) return;
+                        continue;
+                    }
                 }
                 switch (command) {
                     case C_DO: entry(0, DO); break;
@@ -1548,10 +1543,18 @@ public final class MumpsHouse {
                         reference(0);
                         emit(MERGE, 0);
                         break;
-                    case C_READ: readOrWrite(command, begun); break;
-                    case C_SET: assignment(begun); break;
+                    case C_SET:
+                        int many = targets(begun);
+                        expect('=');
+                        expression(0);
+                        emitTargets(many);
+                        break;
                     case C_TSTART: kept(start); break;
-                    default: readOrWrite(command, begun); break;
+                    default:
+                        if (!begun && (peek() == '!' || peek() == '#' || peek() == '?')) format();
+                        else if (command == C_READ) readTarget(begun);
+                        else worked(command, begun);
+                        break;
                 }
                 if (command == C_DO || command == C_GOTO || command == C_XECUTE) conditioned(body);
                 if (command == C_QUIT || command == C_FOR || !accept(',')) return;
@@ -1560,14 +1563,12 @@ public final class MumpsHouse {
 
         /** Reads @ ATOM: an argument of its own (false), or where a REF begins (true). */
         private boolean indirect(int command) {
-            int body = codeLength - 1;
             boolean mayHold = command == C_DO || command == C_GOTO || command == C_XECUTE;
             at++;
             atom(1);
             int c = peek();
             if (lineEnds() || c == ',' || c == ' ' || mayHold && c == ':') {
                 emit(ARGUMENTS, command);
-                if (mayHold) conditioned(body);
                 return false;
             }
             if (command == C_DO || command == C_GOTO || command == C_NEW) failAt(at);
@@ -1587,21 +1588,19 @@ public final class MumpsHouse {
             patch(over, JUMP, codeLength);
         }
 
+        /** An argument that is an expression, of which a REF by @ may be there. */
         private void worked(int command, boolean begun) {
-            rest(begun);
+            boolean star = command == C_WRITE && !begun && accept('*');
+            if (begun) emit(VALUE, 0);
+            else atom(0);
+            operators(0);
             switch (command) {
                 case C_IF: emit(IF, 0); break;
                 case C_QUIT: emit(QUIT_WITH, 0); break;
                 case C_XECUTE: emit(XECUTE, 0); break;
+                case C_WRITE: emit(star ? WRITE_BYTE : WRITE, 0); break;
                 default: emit(HANG, 0); break;
             }
-        }
-
-        /** An expression, of which a REF by @ may be there. */
-        private void rest(boolean begun) {
-            if (begun) emit(VALUE, 0);
-            else atom(0);
-            operators(0);
         }
 
         private void names(int command, boolean begun) {
@@ -1661,27 +1660,18 @@ public final class MumpsHouse {
             emit(LOCK, sign | n << 2 | (timed ? 128 : 0));
         }
 
-        private void readOrWrite(int command, boolean begun) {
-            int c = begun ? NONE : peek();
-            if (c == '!' || c == '#' || c == '?') {
-                format();
-            } else if (command == C_READ) {
-                if (c == '"') {
-                    string();
-                    emit(WRITE, 0);
-                } else {
-                    if (!begun) reference(0);
-                    boolean timed = accept(':');
-                    if (timed) expression(0);
-                    emit(READ, timed ? 1 : 0);
-                }
-            } else if (!begun && accept('*')) {
-                rest(false);
-                emit(WRITE_BYTE, 0);
-            } else {
-                rest(begun);
+        private void readTarget(boolean begun) {
+            int from = at;
+            if (!begun && peek() == '"') {
+                skipString();
+                emit(STRING, from);
                 emit(WRITE, 0);
+                return;
             }
+            if (!begun) reference(0);
+            boolean timed = accept(':');
+            if (timed) expression(0);
+            emit(READ, timed ? 1 : 0);
         }
 
         private void format() {
@@ -1712,50 +1702,50 @@ public final class MumpsHouse {
             emit(ROUND, 0);
         }
 
-        /** A SET: what to set is told behind all that is worked, by how deep it lies there. */
-        private void assignment(boolean begun) {
-            int n = 1, nodes = 0, strings = 1;
+        /** Reads what is to be set: how many; of each its kind and how many strings it has are noted. */
+        private int targets(boolean begun) {
             boolean many = !begun && accept('(');
-            target(0, many ? 1 : 0, begun);
-            for (; many && fault < 0 && accept(','); n++) {
+            int n = 0, open = many ? 1 : 0;
+            for (int i = 0; i <= MOST_LIST && fault < 0; i++) {
+                int kind = T_NODE, strings = 0;
                 if (n >= MOST_LIST) failAt(at);
-                else target(n, 1, false);
+                if (begun || !accept('$')) {
+                    if (!begun) reference(open);
+                } else {
+                    at += longest(TARGETS);
+                    kind = found;
+                    if (kind < 0) failAt(at);
+                    if (kind == T_PIECE || kind == T_EXTRACT) {
+                        if (open >= MOST_OPEN) failAt(at);
+                        expect('(');
+                        reference(open + 1);
+                        if (kind == T_PIECE && peek() != ',') failAt(at);
+                        for (; strings < (kind == T_PIECE ? 3 : 2) && accept(','); strings++) expression(open + 1);
+                        expect(')');
+                    }
+                }
+                if (n < targets.length) targets[n] = Math.max(kind, 0) | strings << 3;
+                n++;
+                if (!many || !accept(',')) break;
             }
             if (many) expect(')');
-            expect('=');
-            expression(0);
-            for (int i = 0; i < n && i < targets.length; i++) {
+            return n;
+        }
+
+        /** What is to be set is told behind all that is worked, by how deep its nodes and strings lie there. */
+        private void emitTargets(int many) {
+            int nodes = 0, strings = 1;
+            for (int i = 0; i < many && i < targets.length; i++) {
                 if ((targets[i] & 7) != T_ECODE && (targets[i] & 7) != T_ETRAP) nodes++;
                 strings += targets[i] >> 3;
             }
             int node = nodes, string = strings;
-            for (int i = 0; i < n && i < targets.length; i++) {
+            for (int i = 0; i < many && i < targets.length; i++) {
                 emit(SET_TO, targets[i] | node << 6 | string << 12);
                 if ((targets[i] & 7) != T_ECODE && (targets[i] & 7) != T_ETRAP) node--;
                 string -= targets[i] >> 3;
             }
             emit(SET_END, nodes | strings << 6);
-        }
-
-        /** Reads a target: its kind, and how many strings it has. */
-        private void target(int n, int open, boolean begun) {
-            int kind = T_NODE, strings = 0;
-            if (begun || !accept('$')) {
-                if (!begun) reference(open);
-            } else {
-                at += longest(TARGETS);
-                kind = found;
-                if (kind < 0) failAt(at);
-                if (kind == T_PIECE || kind == T_EXTRACT) {
-                    if (open >= MOST_OPEN) failAt(at);
-                    expect('(');
-                    reference(open + 1);
-                    if (kind == T_PIECE && peek() != ',') failAt(at);
-                    for (; strings < (kind == T_PIECE ? 3 : 2) && accept(','); strings++) expression(open + 1);
-                    expect(')');
-                }
-            }
-            if (n >= 0 && n < targets.length) targets[n] = Math.max(kind, 0) | strings << 3;
         }
 
         // ---- expressions: open is how many brackets, signs and @ are open
@@ -1846,9 +1836,11 @@ public final class MumpsHouse {
                 expression(open + 1);
                 expect(')');
             } else if (c == '"') {
-                string();
+                int from = at;
+                skipString();
+                emit(STRING, from);
             } else if (c == '.' || isDigit(c)) {
-                number();
+                emit(NUMBER, readNumber());
             } else if (c == '$') {
                 at++;
                 if (accept('$')) entry(open, EXTRINSIC);
@@ -1857,12 +1849,6 @@ public final class MumpsHouse {
                 reference(open);
                 emit(VALUE, 0);
             }
-        }
-
-        private void string() {
-            int from = at;
-            skipString();
-            emit(STRING, from);
         }
 
         private void skipString() {
@@ -1880,21 +1866,28 @@ public final class MumpsHouse {
             at = length;
         }
 
-        private void number() {
-            int from = at;
-            digits(MOST_TEXT);
-            int n = at - from;
-            if (accept('.')) {
-                digits(MOST_TEXT);
-                n = at - from - 1;
+        /** Reads a number: its place. */
+        private int readNumber() {
+            int from = at, n = 0;
+            boolean point = false, right = true;
+            for (; at < length && at < bytes.length; at++) {
+                boolean digit = bytes[at] >= '0' && bytes[at] <= '9';
+                if (!digit && (point || bytes[at] != '.')) break;
+                if (digit) n++;
+                else point = true;
             }
-            if (n == 0) failAt(at);
-            if (accept('E')) {
-                if (!accept('-')) accept('+');
-                if (!isDigit(peek())) failAt(at);
-                digits(MOST_TEXT);
+            right = n > 0;
+            if (right && at < length && at < bytes.length && bytes[at] == 'E') {
+                at++;
+                if (at < length && at < bytes.length && (bytes[at] == '+' || bytes[at] == '-')) at++;
+                right = at < length && at < bytes.length && bytes[at] >= '0' && bytes[at] <= '9';
+                while (at < length && at < bytes.length && bytes[at] >= '0' && bytes[at] <= '9') at++;
             }
-            emit(NUMBER, from);
+            if (!right) {
+                if (fault < 0) fault = at;
+                at = length;
+            }
+            return from;
         }
 
         private void reference(int open) {
@@ -2154,7 +2147,6 @@ public final class MumpsHouse {
         private final Scope scope = new Scope();
         /** Whose globals are those of its transaction's copies. */
         private final int owner;
-        private boolean busy;
 
         private Work(int slot) {
             owner = slot;
@@ -2169,7 +2161,6 @@ public final class MumpsHouse {
             toldCount = 0;
             naked.begin(A_LOCAL, 0);
             scope.begin();
-            busy = true;
         }
 
         private Level levelAt(int i) {
@@ -2716,7 +2707,7 @@ public final class MumpsHouse {
             procCount = 0;
             locals.clear();
             for (int i = 0; i < references.length; i++) references[i] = 0;
-            for (int i = 0; i < works.length; i++) if (works[i] != null) works[i].busy = false;
+            for (int i = 0; i < procs.length; i++) if (procs[i] != null) procs[i].work = null;
             proc = null;
             work = null;
         }
@@ -2737,10 +2728,18 @@ public final class MumpsHouse {
             return n;
         }
 
+        private boolean isBusy(Work w) {
+            for (int i = 0; i < procCount && w != null; i++) {
+                Proc p = procs[i];
+                if (p != null && p.work == w) return true;
+            }
+            return false;
+        }
+
         /** A process more; null if there is no room. */
         private Proc create() {
             int slot = 0;
-            while (slot < works.length && works[slot] != null && works[slot].busy) slot++;
+            while (slot < works.length && isBusy(works[slot])) slot++;
             if (slot >= works.length || procCount >= procs.length) return null;
             if (works[slot] == null) works[slot] = new Work(slot + 1);
             if (procs[procCount] == null) procs[procCount] = new Proc();
@@ -2800,13 +2799,11 @@ public final class MumpsHouse {
             phase = STOPPED;
         }
 
-        private void step() {
-            int word = work.text.word(work.place), op = word & 255, arg = word >>> 8;
+        /** The next word of the code. */
+        private int fetch() {
+            int word = work.text.word(work.place);
             work.place++;
-            if (op <= LAST_OF_EXPRESSIONS) expression(op, arg);
-            else if (op <= LAST_OF_ENTRIES) enter(op, arg);
-            else if (op <= LAST_OF_FLOW) flow(op, arg);
-            else act(op, arg);
+            return word;
         }
 
         private void readingEnded(boolean right) {
@@ -2925,7 +2922,6 @@ public final class MumpsHouse {
             Scope s = w.scope;
             for (int i = 0; i < s.count; i++) release(s.cellAt(i));
             for (int i = 0; i < s.hiddenCount; i++) release(s.hiddenCell(i));
-            w.busy = false;
             p.work = null;
             p.status = status;
             p.wait = RUNNING;
