@@ -1,0 +1,148 @@
+import java.math.BigDecimal;
+import java.math.BigInteger;
+import java.math.MathContext;
+import java.math.RoundingMode;
+import java.util.Random;
+
+/** Part 1 and the operators on numbers: against exact decimals, on random numbers of all sizes. */
+public final class NumberTest {
+    private static final BigDecimal GREATEST = BigDecimal.TEN.pow(30);
+    private static final Random random = new Random(7);
+
+    public static void main(String[] args) {
+        edges();
+        for (int i = 0; i < 400; i++) {
+            House house = new House();
+            for (int k = 0; k < 12; k++) operation(house);
+            for (int k = 0; k < 6; k++) reading(house);
+        }
+        for (int i = 0; i < 60; i++) functions(new House());
+        House.report();
+    }
+
+    private static void edges() {
+        due("W .1**30", "." + "0".repeat(29) + "1");
+        due("W .1**31", "0");
+        due("W 1E29*9.99999999999999999", "999999999999999999000000000000");
+        due("W 1E29*10", "{,M92,}");
+        due("W 999999999999999999999999999999", "{,M92,}");
+        due("W 999999999999999999E12", "999999999999999999000000000000");
+        due("W 9999999999999999995", "10000000000000000000");
+        due("W \"999999999999999999999999999999\"+1", "{,M92,}");
+        due("W 0.50,-0,00012.500", ".5012.5");
+        due("W +\"1E-31\",+\"5E-31\"", "0." + "0".repeat(29) + "1");
+        due("W +\"1E99999\"", "{,M92,}");
+        due("W +\"0E99999\",+\"1E-99999\"", "00");
+        due("W +\"12E\",+\"12E+\",+\"12E-x\",+\"1.5.2\",+\".\",+\"+-+-7\",+\"- 7\"", "1212121.5070");
+        due("W 1/0", "{,M9,}");
+        due("W 1\\0", "{,M9,}");
+        due("W 1#0", "{,M9,}");
+        due("W 2**100", "1267650600228229400000000000000".length() > 30 ? "{,M92,}" : "");
+        due("W 2**.5", "{,M92,}");
+        due("W 1**101", "{,M92,}");
+        due("W 1**100,1**-100,0**0,0**5", "1110");
+        due("W 0**-1", "{,M9,}");
+        due("W .001**-20", "{,M9,}");
+        due("W 1E-20**2", "0");
+        due("W -7\\2,-7#2,7#-2,-7#-2", "-31-1-1");
+        due("W 1E-30#1E29", "." + "0".repeat(29) + "1");
+        due("W 1E10=10000000000,\"1E10\"=1E10,\"1E10\"+0=1E10", "101");
+    }
+
+    private static void due(String text, String want) {
+        House.due(text, House.of("", text), want);
+    }
+
+    private static BigDecimal number() {
+        int digits = 1 + random.nextInt(random.nextBoolean() ? 18 : 4);
+        StringBuilder b = new StringBuilder();
+        for (int i = 0; i < digits; i++) b.append((char) ('0' + (random.nextInt(4) == 0 ? 9 : random.nextInt(4) == 0 ? 0 : random.nextInt(10))));
+        int e = random.nextInt(3) == 0 ? random.nextInt(45) - 32 : random.nextInt(8) - 5;
+        BigDecimal n = new BigDecimal(new BigInteger(b.toString()), -e);
+        if (random.nextBoolean()) n = n.negate();
+        BigDecimal fitted = fit(n);
+        return fitted == null ? BigDecimal.ONE : fitted;
+    }
+
+    /** FITTED; null for M92. */
+    private static BigDecimal fit(BigDecimal exact) {
+        BigDecimal n = exact.round(new MathContext(18, RoundingMode.HALF_UP));
+        if (n.scale() > 30) n = n.setScale(30, RoundingMode.HALF_UP);
+        return n.abs().compareTo(GREATEST) >= 0 ? null : n;
+    }
+
+    static String text(BigDecimal n) {
+        if (n == null) return null;
+        if (n.signum() == 0) return "0";
+        String t = n.stripTrailingZeros().toPlainString();
+        if (t.startsWith("0.")) return t.substring(1);
+        return t.startsWith("-0.") ? "-" + t.substring(2) : t;
+    }
+
+    private static void operation(House house) {
+        BigDecimal a = number(), b = random.nextInt(12) == 0 ? BigDecimal.ZERO : number();
+        String op = "+-*/\\#<>".substring(random.nextInt(8)).substring(0, 1), want;
+        boolean zero = b.signum() == 0;
+        MathContext exact = new MathContext(200, RoundingMode.DOWN);
+        switch (op) {
+            case "+": want = text(fit(a.add(b))); break;
+            case "-": want = text(fit(a.subtract(b))); break;
+            case "*": want = text(fit(a.multiply(b))); break;
+            case "/": want = zero ? "{,M9,}" : text(fit(a.divide(b, exact))); break;
+            case "\\": want = zero ? "{,M9,}" : text(fit(a.divide(b, exact).setScale(0, RoundingMode.DOWN))); break;
+            case "#":
+                want = zero ? "{,M9,}" : text(fit(a.subtract(b.multiply(a.divide(b, exact).setScale(0, RoundingMode.FLOOR)))));
+                break;
+            case "<": want = a.compareTo(b) < 0 ? "1" : "0"; break;
+            default: want = a.compareTo(b) > 0 ? "1" : "0"; break;
+        }
+        if (want == null) want = "{,M92,}";
+        String text = "W \"" + text(a) + "\"" + op + "\"" + text(b) + "\"";
+        House.due(text, house.process(text) < 0 ? "no room" : finish(house), want);
+    }
+
+    private static int processes = 0;
+
+    /** What the last process wrote; a house that had its 24 is not asked. */
+    private static String finish(House house) {
+        int p = house.house.count(3) - 1;
+        house.house.turns(50);
+        String code = house.code(p);
+        return house.written(p) + (code.isEmpty() ? "" : "{" + code + "}");
+    }
+
+    private static void reading(House house) {
+        StringBuilder b = new StringBuilder();
+        String signs = "0123456789..E+-x";
+        int n = random.nextInt(30);
+        for (int i = 0; i < n; i++) b.append(random.nextInt(3) > 0 ? signs.charAt(random.nextInt(10)) : signs.charAt(random.nextInt(16)));
+        String s = b.toString();
+        java.util.regex.Matcher m = java.util.regex.Pattern.compile("^([+-]*)(\\d+\\.?\\d*|\\.\\d+)(E[+-]?\\d+)?").matcher(s);
+        String want = "0";
+        if (m.find()) {
+            boolean minus = m.group(1).chars().filter(c -> c == '-').count() % 2 == 1;
+            BigDecimal value = new BigDecimal(m.group(2));
+            if (m.group(3) != null) {
+                String e = m.group(3).substring(1);
+                boolean down = e.startsWith("-");
+                BigInteger k = new BigInteger(e.replaceFirst("^[+-]", "")).min(BigInteger.valueOf(999));
+                value = value.scaleByPowerOfTen(down ? -k.intValue() : k.intValue());
+            }
+            want = text(fit(minus ? value.negate() : value));
+            if (want == null) want = "{,M92,}";
+        }
+        String text = "W +\"" + s + "\"";
+        House.due(text, house.process(text) < 0 ? "no room" : finish(house), want);
+    }
+
+    private static void functions(House house) {
+        BigDecimal a = number();
+        int places = random.nextInt(31);
+        String fixed = a.setScale(places, RoundingMode.HALF_UP).toPlainString();
+        if (new BigDecimal(fixed).signum() == 0 && fixed.startsWith("-")) fixed = fixed.substring(1);
+        String text = "W $J(\"" + text(a) + "\",0," + places + ")";
+        House.due(text, house.run(text), fixed);
+        text = "W $E(" + text(a).replace("-", "-") + ",1,250)";
+        House.due(text, house.run(text), text(a));
+    }
+}
