@@ -194,10 +194,9 @@ public final class MumpsHouse {
             int chosen = machine.choose();
             if (chosen == NONE) break;
             went += chosen;
-            for (int k = 0; chosen == 1 && machine.phase != STOPPED; k++) {
+            for (int k = 0; k < MOST_STEPS && chosen == 1 && machine.phase != STOPPED; k++) {
                 int word = machine.error == 0 && machine.phase == GOING ? machine.fetch() : NO_OP, op = word & 255;
-                if (k > MOST_STEPS) machine.stopRunning();
-                else if (machine.error != 0) machine.unwind();
+                if (machine.error != 0) machine.unwind();
                 else if (machine.phase >= READING) machine.readingEnded(machine.work.text.readPiece(machine.phase - READING));
                 else if (machine.phase == LINE_OVER) machine.endLine();
                 else if (machine.phase == LEVEL_OVER || machine.phase == LEVEL_VALUED) machine.endLevel(machine.phase == LEVEL_VALUED);
@@ -207,6 +206,7 @@ public final class MumpsHouse {
                 else if (op <= LAST_OF_FLOW) machine.flow(op, word >>> 8);
                 else machine.act(op, word >>> 8);
             }
+            if (chosen == 1 && machine.phase != STOPPED) machine.stopRunning();
         }
         return went;
     }
