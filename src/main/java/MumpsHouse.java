@@ -3709,7 +3709,7 @@ public final class MumpsHouse {
                 return;
             }
             for (int i = 0; i < many; i++) ids[i] = cellOf(work.string(many - i));
-            work.drop(many);
+            work.drop(Math.max(many, 0));
             Level l = to.pushLevel(op == EXTRINSIC ? VALUE_LEVEL : ENTRY_LEVEL, proc.test);
             if (l == null) return;
             l.text = t;
