@@ -970,6 +970,8 @@ public final class MumpsHouse {
                 if (x[at] < 0 != y[at] < 0) return x[at] < 0 ? -1 : 2;
                 boolean numbers = x[at] < 0, below = numbers && x[at + 1] == '-';
                 if (below != (numbers && y[at + 1] == '-')) return below ? -1 : 2;
+                boolean zero = numbers && a == 1 && x[at + 1] == '0';
+                if (!below && zero != (numbers && b == 1 && y[at + 1] == '0')) return zero ? -1 : 2;
                 int c = 0;
                 if (numbers) {
                     int wholeA = at + 1, wholeB = at + 1;
