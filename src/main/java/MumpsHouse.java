@@ -16,7 +16,7 @@ public final class MumpsHouse {
     private static final int MOST_STEPS = 1000000;
 
     private static final int LOWEST = -30;
-    private static final long BILLION = 1000000000L;
+    private static final long BILLION = 1000000000L, NEVER = 1L << 62;
     private static final long[] POWERS = {1L, 10L, 100L, 1000L, 10000L, 100000L, 1000000L, 10000000L, 100000000L,
         1000000000L, 10000000000L, 100000000000L, 1000000000000L, 10000000000000L, 100000000000000L,
         1000000000000000L, 10000000000000000L, 100000000000000000L, 1000000000000000000L};
@@ -2780,7 +2780,7 @@ public final class MumpsHouse {
 
         /** Whether what waits need wait no more. */
         private boolean ready() {
-            if (proc.deadline >= 0 && house.second >= proc.deadline) return true;
+            if (house.second >= proc.deadline) return true;
             if (proc.wait == FOR_LINE) return work.toldCount > 0;
             return proc.wait == FOR_LOCKS && !barred(work.text.word(work.place) >>> 10 & 31);
         }
@@ -2796,7 +2796,7 @@ public final class MumpsHouse {
         /** It waits in the command that it is in, till a time if one is told. */
         private void await(int what, boolean timed, int seconds) {
             proc.wait = what;
-            proc.deadline = timed ? (long) house.second + seconds : NONE;
+            proc.deadline = timed ? (long) house.second + seconds : NEVER;
             work.place--;
             phase = STOPPED;
         }
@@ -4231,10 +4231,16 @@ public final class MumpsHouse {
             Scope s = work.scope;
             for (int i = s.count - 1; i >= 0; i--) {
                 int cell = s.cellAt(i);
-                if (i >= s.count || list > 0 && Scope.lists(work.text, list, s.nameAt(i))) continue;
+                if (i >= s.count || list > 0 && isSpared(s, list, cell)) continue;
                 if (locals.runOf(cell) > 0) locals.removeRun();
                 tidy(s, cell);
             }
+        }
+
+        /** Names that are one are one local: it stays if one of them is listed. */
+        private boolean isSpared(Scope s, int list, int cell) {
+            for (int i = 0; i < s.count; i++) if (s.cellAt(i) == cell && Scope.lists(work.text, list, s.nameAt(i))) return true;
+            return false;
         }
 
         private void hideOthers(Scope s, int list) {
@@ -4334,7 +4340,8 @@ public final class MumpsHouse {
             boolean line = work.toldCount > 0, waited = proc.wait != RUNNING;
             int n = timed && !waited ? whole(1) : 0;
             if (error != 0) return;
-            if (!line && !waited && !(timed && n <= 0)) {
+            // also for no seconds at all: only of HANG and LOCK the document says that such do not wait
+            if (!line && !waited) {
                 await(FOR_LINE, timed, n);
                 return;
             }

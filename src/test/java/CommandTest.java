@@ -142,6 +142,8 @@ public final class CommandTest {
         run("S I=1 S (I,A(I))=5 W I,A(1)", "55");
         run("S A=1,A(1)=2,A(1,1)=3,A(2)=4 K A(1) W $D(A(1)),$D(A(2)),A K A W $D(A),$D(A(2))", "01100");
         run("S A=1,B=2,C=3 K (A,C) W $D(A),$D(B),$D(C) K  W $D(A)", "1010");
+        // names that are one are one local, which stays if one of them is told
+        run("F(X,Y) K (Y) W $D(X),$D(Y),$D(A),$D(B) Q", "S A=1,B=2 D F^R(.A,.A) W A,$D(B)", "111010");
         run("S ^A=1,^A(1)=2,^B=3 K ^A W $D(^A),$D(^B) K ^(1)", "01{,M1,}");
         run("S A=1 X \"N A W $D(A) S A=2 N A W $D(A) S A=3\" W A", "001");
         run("X \"N A S A=2\" W $D(A)", "0");

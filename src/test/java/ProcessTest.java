@@ -100,7 +100,7 @@ public final class ProcessTest {
         h.house.time(4);
         House.due("idle", h.house.turns(1), 0);
         h.house.time(5);
-        House.due("turns", h.house.turns(2), 2);
+        House.due("turns", h.house.turns(3), 3);
         House.due("$TEST", h.house.state(p, 2), 0);
         House.due("written", h.written(p), "\nxone0");
         House.due("tell", h.tell(p, "two"), 1);
@@ -126,6 +126,15 @@ public final class ProcessTest {
         h2.tell(p, "x".repeat(250));
         h2.house.turns(9);
         House.due("written", h2.written(p), "1" + "x".repeat(250));
+        // also for no time at all it waits, till its next turn
+        for (int n = -1; n <= 0; n++) {
+            h2 = new House();
+            p = h2.process("I 1 R X:" + n + " W $T,\"[\",X,\"]\"");
+            House.due("turns", h2.house.turns(2), 2);
+            House.due("waits", h2.house.state(p, 0), 3);
+            House.due("turns", h2.house.turns(9), 2);
+            House.due("written", h2.written(p), "0[]");
+        }
         // a line read in an extrinsic
         h2.save("R", "F R X Q X");
         p = h2.process("W 1_$$F^R,2");
