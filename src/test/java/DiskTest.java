@@ -7,6 +7,8 @@ public final class DiskTest {
     public static void main(String[] args) {
         records();
         blocks();
+        rooms();
+        sixteen();
         power();
         starts();
         crafted();
@@ -121,6 +123,12 @@ public final class DiskTest {
             House.due("bytes", h.house.count(13), 248 + more);
             House.due("sync", h.house.sync(), more > 0 ? 2 : 1);
             disk("full blocks", h, sync(1, joined(set(" ".repeat(241 + more) + "1", "A"), 0)));
+            House.due("verify", h.house.verify(), -1);
+            h.house.cut(0, 0);
+            h.process("S ^B=1");
+            h.house.turns(3);
+            House.due("sync", h.house.sync(), -6);
+            House.due("start", h.house.start(), 1);
         }
         House h = new House();
         h.save("R", "F F I=1:1:140 S ^A(I)=$J(I,250)\n Q");
@@ -137,6 +145,58 @@ public final class DiskTest {
         House.due("start", h.house.start(), 141);
         House.due("values", h.house.count(1), 140);
         House.due("A", h.look(0, "^A(77)", 0), " ".repeat(248) + "77");
+    }
+
+    /** A house with 99192 bytes that wait, where 99200 have room. */
+    private static House filled() {
+        House h = new House();
+        h.process("F I=1:1:388 S ^A=$J(\"\",$S(I<388:250,1:114))");
+        for (int i = 0; i < 2; i++) h.house.turns(400);
+        House.due("bytes", h.house.count(13), 99192);
+        return h;
+    }
+
+    /** What is done with so many bytes in a unit: it has room or, with one more, not. */
+    private static void room(String fits, String doesNot) {
+        House h = filled();
+        House.due(fits, h.run(fits), "");
+        House.due("bytes", h.house.count(13), 99200);
+        House.due("KILL", h.run("K ^A"), "{,Z1,}");
+        House.due("sync", h.house.sync(), 400);
+        House.due("FULL", h.save("R", ""), -4);
+        h = filled();
+        House.due(doesNot, h.run(doesNot), "{,Z1,}");
+        House.due("bytes", h.house.count(13), 99192);
+        House.due("A", h.look(0, "^A", 0), " ".repeat(114));
+        House.due("values", h.house.count(1), 1);
+    }
+
+    private static void rooms() {
+        room("S ^B=12", "S ^B=123");
+        room("S ^B(1)=\"\"", "S ^B(1)=1");
+        room("S A=12 M ^B=A", "S A=123 M ^B=A");
+        room("TS  S ^B=12 TC", "TS  S ^B=123 TC");
+        House h = filled();
+        House.due("transaction", h.run("TS  S ^B=123 S $ET=\"W $TL TRO  W $TL\" TC"), "10{,Z1,}");
+        House.due("save", h.save("R", " ;x"), -4);
+        House.due("save", h.save("R", " ;"), 1);
+        House.due("bytes", h.house.count(13), 99200);
+    }
+
+    /** A routine that is saved twice is one of sixteen. */
+    private static void sixteen() {
+        House h = new House();
+        for (int i = 0; i < 16; i++) h.save("R" + i, " ;" + i);
+        h.save("R15", " ;again");
+        House.due("save", h.save("R16", ""), -4);
+        h.house.sync();
+        h.process("S ^A=1");
+        h.house.turns(2);
+        h.house.cut(0, 9);
+        h.house.sync();
+        House.due("start", h.house.start(), 17);
+        House.due("routines", h.house.count(0), 16);
+        House.due("text", h.run("W $T(+1^R15)"), " ;again");
     }
 
     /** A house with one sync of ^A and ^B, and three more blocks that wait. */

@@ -52,6 +52,10 @@ public final class ExpressionTest {
         value("\"a1b2\"?.AN,\"a1b2\"?.AN.AN,\"12-3\"?1.N1\"-\"1.N,\"x\"?1an", "1111");
         value("\"a\"'?1A,\"a\"'?1N,1?1N=1", "011");
         value("$J(\"\",250)?250P,$J(\"\",250)?249P,$J(\"\",250)?.P,$J(\"\",250)?1.249P,$J(\"\",250)?.(1P)", "10101");
+        value("\"a\"?2.1A,\"\"?2.1A,\"\"?2.0A,\"a\"?0A,\"\"?0A", "00001");
+        value("$J(\"\",200)_\"x\"?.P1\"x\",$J(\"\",200)_\"x\"?200P,$J(\"x\",130)?.(1P,1\"x\"),$J(\"x\",130)?64(2P)1.(1P)1\"x\"", "1011");
+        // no text of @ is worked any more behind its pattern
+        run("S P=\"1N\" W " + "1?@P,".repeat(30) + "2", "1".repeat(30) + "2");
         run("S P=\"1A.N\" W \"a12\"?@P,\"12\"?@P,\"12\"'?@P,\"x\"?@\"1(1\"\"x\"\")\"", "1011");
         run("S P=\"1Q\" W \"a\"?@P", "{,Z3,}");
         run("S P=\"\" W \"a\"?@P", "{,Z3,}");
@@ -229,5 +233,14 @@ public final class ExpressionTest {
         String n = "F(N) S (A(1),A(2),A(3),A(4),A(5),A(6),A(7),A(8),A(9))=$S(N=0:0,1:$$F(N-1)) Q N";
         House.due("nodes", House.of(n, "S X=$$F^R(3) W X"), "3");
         House.due("nodes", House.of(n, "S X=$$F^R(4)"), "{,Z1,}");
+        // twenty targets with three strings each: the value is one more
+        String targets = "$P(A,1,2,3),".repeat(19);
+        House.due("59 strings", House.of(" S (" + targets + "$P(A,1,2))=5 W A", "D ^R"), "15");
+        House.due("60 strings", House.of(" S (" + targets + "$P(A,1,2,2))=5 W A", "D ^R"), "{,Z1,}");
+        // nothing stays in hand behind a command
+        String all = "S (A,B(1,2),$P(C(1),1,2,3),$E(D,4,5))=1_2,E=$G(F(1),3)_$G(A) K A(1),F M F(1)=B L +A(1):0,-(A(1),B):1 "
+            + "H 0 I A D L^R(1,,.B) X \"W *65,?1\" S A=$$F^R(2,.B),@\"G(1)\"=$O(A(1),1)_$NA(B(1),1) W:I=99 $G(C(1))";
+        House.due("nothing stays", House.of("L(A,B,C) Q\nF(A,B) Q A\nM F I=1:1:99 " + all, "D M^R"),
+            "A".repeat(99) + "112");
     }
 }

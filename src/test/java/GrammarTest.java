@@ -126,6 +126,16 @@ public final class GrammarTest {
     }
 
     private static void expressions() {
+        for (String f : new String[] {"D(A", "Q(A", "QL(1", "R(1", "RE(1", "T(A"}) at(" W $" + f + ",1)", 4 + f.length());
+        for (String f : new String[] {"A(1,1", "L(1,1", "FN(1,1", "QS(1,1", "G(A,1", "NA(A,1", "O(A,1", "E(1,1,1", "F(1,1,1", "J(1,1,1", "TR(1,1,1", "P(1,1,1,1"}) {
+            fine(" W $" + f + ")");
+            at(" W $" + f + ",1)", 4 + f.length());
+        }
+        for (String f : new String[] {"FN(1", "F(1", "J(1", "P(1", "QS(1", "TR(1", "S(1"}) at(" W $" + f + ")", 4 + f.length());
+        fine(" S $P(A,1)=1", " S $P(A,1,2)=1", " S $P(A,1,2,3)=1", " S $E(A)=1", " S $E(A,1)=1", " S $E(A,1,2)=1");
+        at(" S $P(A)=1", 7);
+        at(" S $P(A,1,2,3,4)=1", 13);
+        at(" S $E(A,1,2,3)=1", 11);
         fine(" W 1,.5,5.,1E5,1.5E-3,5.E+3", " W A'=B,A'?1N,A?1N.A1.2L.3\"x\"1.(1A,2N)3E", " W A?@B,A'?@B", " W A]]B,A'[B,A**B,A\\B#C", " W ---'+A", " W ((A))",
             " W $A(1),$ASCII(1,2),$c(1,2,3),$D(A),$DATA(^A(1)),$E(1),$E(1,2,3),$F(1,2),$F(1,2,3),$FN(1,2),$G(A),$G(A,1),$J(1,2),$J(1,2,3)",
             " W $L(1),$L(1,2),$NA(A),$NA(A,1),$O(A(1)),$O(A,1),$P(1,2),$P(1,2,3,4),$QL(1),$QS(1,2),$Q(A),$R(1),$RE(1),$S(1:2),$S(1:2,3:4),$T(A),$T(+1^B),$TR(1,2),$TR(1,2,3)",

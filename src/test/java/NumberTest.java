@@ -34,6 +34,12 @@ public final class NumberTest {
         due("W +\"1E99999\"", "{,M92,}");
         due("W +\"0E99999\",+\"1E-99999\"", "00");
         due("W +\"12E\",+\"12E+\",+\"12E-x\",+\"1.5.2\",+\".\",+\"+-+-7\",+\"- 7\"", "1212121.5070");
+        // a subscript that is CANONIC has no quotes: 18 digits, below 1E30, 30 places behind the point
+        canonic("0", "-1", ".5", "-.5", "1.5", "123456789012345678", "123456789012345678000", "12345678.9012345678", ".123456789012345678",
+            "1" + "0".repeat(29), "999999999999999999" + "0".repeat(12), "." + "0".repeat(29) + "1", "-." + "0".repeat(12) + "123456789012345678");
+        notCanonic("00", "-0", "+1", "1.", "1.0", "0.5", "-", ".", "1E2", "01", "--1", " 1", "1 ", ".0", "1..5", "1234567890123456789", "12345678.90123456789",
+            "1" + "0".repeat(30), "." + "0".repeat(30) + "1", "." + "0".repeat(13) + "123456789012345678", "1" + "0".repeat(17) + ".1");
+        due("W -2<-1,-1<-2,-1<1,1<-1,-1.5<-1.25,0>-.001,-1E29<-1E28", "1010111");
         due("W 1/0", "{,M9,}");
         due("W 1\\0", "{,M9,}");
         due("W 1#0", "{,M9,}");
@@ -51,6 +57,14 @@ public final class NumberTest {
         due("W -7\\2,-7#2,7#-2,-7#-2", "-31-1-1");
         due("W 1E-30#1E29", "." + "0".repeat(29) + "1");
         due("W 1E10=10000000000,\"1E10\"=1E10,\"1E10\"+0=1E10", "101");
+    }
+
+    private static void canonic(String... numbers) {
+        for (String n : numbers) due("S A=\"" + n + "\" W $NA(B(A)),$QS($NA(B(A)),1)", "B(" + n + ")" + n);
+    }
+
+    private static void notCanonic(String... strings) {
+        for (String s : strings) due("S A=\"" + s + "\" W $NA(B(A)),$QS($NA(B(A)),1)", "B(\"" + s + "\")" + s);
     }
 
     private static void due(String text, String want) {

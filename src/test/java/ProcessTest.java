@@ -135,6 +135,25 @@ public final class ProcessTest {
             House.due("turns", h2.house.turns(9), 2);
             House.due("written", h2.written(p), "0[]");
         }
+        // twenty lines wait, and twenty more behind them
+        h2 = new House();
+        p = h2.process("F I=1:1:40 R X W X");
+        StringBuilder lines = new StringBuilder();
+        for (int i = 0; i < 40; i++) {
+            House.due("tell", h2.tell(p, "a" + i), i % 20 + 1);
+            lines.append('a').append(i);
+            if (i % 20 == 19) h2.house.turns(200);
+        }
+        House.due("written", h2.written(p), lines.toString());
+        // what a process had in hand when it was halted, the next one has not
+        h2 = new House();
+        h2.save("R", "F(N) Q:N=0 $$G^R Q 1_(2_$$F(N-1))\nG() R X Q X");
+        for (int i = 0; i < 9; i++) {
+            p = h2.process("W $$F^R(25)");
+            h2.house.turns(99);
+            House.due("waits", h2.house.state(p, 0), 3);
+            House.due("halt", h2.house.halt(p), 28);
+        }
         // a line read in an extrinsic
         h2.save("R", "F R X Q X");
         p = h2.process("W 1_$$F^R,2");
@@ -160,6 +179,10 @@ public final class ProcessTest {
         h.tell(a, "");
         h.house.turns(9);
         locks(h, "");
+        h.house.halt(a);
+        a = h.process("L +A,+B,+C,+D,+E L -B,-D R X");
+        h.house.turns(9);
+        locks(h, a + ":A*1 " + a + ":C*1 " + a + ":E*1 ");
         int[] others = new int[4];
         h.house.halt(a);
         a = h.process("L A(1) R X L  W 9");

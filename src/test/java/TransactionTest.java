@@ -103,6 +103,9 @@ public final class TransactionTest {
         run("S A=1,A(1)=2 TS (A) W A,$D(A(1)),$D(A(2)) K A S A(2)=5 TRE:$TR<1", "110110");
         run("TS (A) W $D(A) S A=1 TRE:$TR<1", "00");
         run("S A=1 TS * W A,$D(B) S A=2,B=3 TRE:$TR<1", "1011");
+        run("S A=1,B=2 TS (A,B) W A,B K A,B TRE:$TR<1", "1212");
+        run("S A=1,B=2 TS (A,B) W A,B S A=3,B=4 K A S B(1)=5 TRE:$TR<1  W $D(A),$D(B)", "1212011");
+        run("S A=1,B=2 TS (A) TC  S A=3 TS (B) W A,B S A=4,B=5 TRE:$TR<1", "3242");
         run("S A=1 TS () W A S A=2 TRE:$TR<1", "12");
         run("S A=1 TS (A,A,B) W A S A=2 TRE:$TR<1", "11");
         run("S A=1 TS (A) W $G(A,\"n\") N A S A=5 TRE:$TR<1  W A", "115");
