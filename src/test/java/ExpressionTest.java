@@ -237,6 +237,8 @@ public final class ExpressionTest {
         String targets = "$P(A,1,2,3),".repeat(19);
         House.due("59 strings", House.of(" S (" + targets + "$P(A,1,2))=5 W A", "D ^R"), "15");
         House.due("60 strings", House.of(" S (" + targets + "$P(A,1,2,2))=5 W A", "D ^R"), "{,Z1,}");
+        House.due("behind LOCK", House.of(" L " + "+A:0,".repeat(70) + "-A:1 W $T", "D ^R"), "1");
+        House.due("behind WRITE", House.of(" W " + "?1,*65,".repeat(70) + "$X", "D ^R"), " " + "A".repeat(70) + "71");
         // nothing stays in hand behind a command
         String all = "S (A,B(1,2),$P(C(1),1,2,3),$E(D,4,5))=1_2,E=$G(F(1),3)_$G(A) K A(1),F M F(1)=B L +A(1):0,-(A(1),B):1 "
             + "H 0 I A D L^R(1,,.B) X \"W *65,?1\" S A=$$F^R(2,.B),@\"G(1)\"=$O(A(1),1)_$NA(B(1),1) W:I=99 $G(C(1))";

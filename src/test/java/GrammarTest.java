@@ -211,6 +211,18 @@ public final class GrammarTest {
     }
 
     private static void limits() {
+        for (String front : new String[] {"W ", "W !?", "W ?", "W *", "W:", "S A=", "I ", "H ", "X ", "X A:", "D A:", "D @A:", "G A:", "D A+", "G +", "Q ", "F A=", "F A=1:", "F A=1:1:",
+            "F A=1,", "L A:", "L +A:", "R A:", "W 1,", "W 1+", "W 1?1N,"}) {
+            fine(" " + front + "(".repeat(15) + "1" + ")".repeat(15) + (front.equals("W:") ? " 1" : ""));
+            at(" " + front + "(".repeat(16), 1 + front.length() + 15);
+            at(" " + front + "-".repeat(16), 1 + front.length() + 15);
+        }
+        for (String front : new String[] {"S A(", "S ($P(A,", "K A(", "W $A(", "W $$A(", "D A(", "J A(", "W @A@(", "W ^(", "W $S(", "W $S(1:", "L (A(", "M A=B("}) {
+            int open = front.replaceAll("[^(]", "").length();
+            String behind = (front.equals("W $S(") ? ":1" : "") + ")".repeat(open) + (front.startsWith("S") ? "=1" : "");
+            fine(" " + front + "-".repeat(15 - open) + "1" + behind);
+            at(" " + front + "-".repeat(16 - open), 1 + front.length() + 15 - open);
+        }
         at("ABCDEFGH", -1);
         at("ABCDEFGHI", 0);
         at(" W ABCDEFGHI", 3);

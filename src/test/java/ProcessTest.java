@@ -117,6 +117,7 @@ public final class ProcessTest {
         h.house.turns(20);
         House.due("written", h.written(p), "11 21 31 ");
         House h2 = new House();
+        House.due("empty", h2.run("R A(\"\"):0"), "{,Z2,}");
         p = h2.process("R ^(1) W 1");
         House.due("turns", h2.house.turns(3), 1);
         h2.tell(p, "x");
