@@ -1,5 +1,6 @@
 import java.io.ByteArrayOutputStream;
 import java.util.ArrayList;
+import java.util.Arrays;
 import java.util.List;
 
 /** Part 10 and promises 21 to 26: units, syncs, power, START, blocks that are not right. */
@@ -186,6 +187,17 @@ public final class DiskTest {
     /** A routine that is saved twice is one of sixteen. */
     private static void sixteen() {
         House h = new House();
+        String text = "A ;" + "x".repeat(300) + "\n W 4\n ;" + "y".repeat(300);
+        h.save("Long", text);
+        House.due("sync", h.house.sync(), 3);
+        disk("a long routine", h, sync(1, joined(routine("Long", text), 0)));
+        h.process("S ^A=1");
+        h.house.turns(2);
+        h.house.cut(0, 0);
+        h.house.sync();
+        House.due("start", h.house.start(), 1);
+        House.due("lines", h.run("D ^Long W $T(A+1^Long) W $T(A+2^Long)"), "4 W 4{,M75,}");
+        h = new House();
         for (int i = 0; i < 16; i++) h.save("R" + i, " ;" + i);
         h.save("R15", " ;again");
         House.due("save", h.save("R16", ""), -4);
@@ -329,12 +341,14 @@ public final class DiskTest {
     /** The house after START from these bytes as its one sync, of one block; so many units are done again. */
     private static House from(int units, byte[] bytes) {
         House h = new House();
-        h.process("S ^q=$J(1,250)");
-        h.house.turns(2);
-        h.house.cut(1, 0);
+        List<byte[]> blocks = sync(1, bytes);
+        h.process("F I=0:1:" + blocks.size() + " S ^q=$J(1,250)");
+        h.house.turns(20);
+        h.house.cut(blocks.size(), 0);
         h.house.sync();
-        byte[] b = sync(1, bytes).get(0);
-        for (int i = 0; i < 256; i++) h.house.poke(1, i, h.house.octet(1, i) ^ b[i] & 255);
+        for (int k = 1; k <= blocks.size(); k++) {
+            for (int i = 0; i < 256; i++) h.house.poke(k, i, h.house.octet(k, i) ^ blocks.get(k - 1)[i] & 255);
+        }
         House.due("units", h.house.start(), units);
         return h;
     }
@@ -342,6 +356,8 @@ public final class DiskTest {
     private static void crafted() {
         byte[] one = joined(set("1", "A"), 0);
         House.due("A", from(1, one).look(0, "^A", 0), "1");
+        from(1, joined(set("x".repeat(250), "A"), 0));
+        from(0, joined(set("x".repeat(251), "A"), 0));
         from(0, joined(0));
         from(0, joined(0, one));
         from(1, joined(one, 0, one));
@@ -377,6 +393,13 @@ public final class DiskTest {
         h = from(1, joined(set("1", "A"), routine("R0", ""), routine("R1", ""), routine("R0", " W 3"), 0, routine("R2", "A("), 0));
         House.due("routines", h.house.count(0), 2);
         House.due("the last one", h.run("D ^R0"), "3");
+        byte[] fifteen = Arrays.copyOf(many.toByteArray(), many.size() - joined(routine("R15", ""), 0).length);
+        // a unit with the sixteenth routine twice, and one with two of which the second is the seventeenth
+        h = from(16, joined(fifteen, routine("X", ""), routine("R3", " "), routine("X", " W 6"), 0));
+        House.due("routines", h.house.count(0), 16);
+        House.due("the last one", h.run("D ^X"), "6");
+        h = from(15, joined(fifteen, routine("X", ""), routine("R3", " "), routine("Y", ""), 0));
+        House.due("routines", h.house.count(0), 15);
     }
 
     private static void verified() {

@@ -57,6 +57,22 @@ public final class FaceTest {
         int[] want = {0xC0, 0xC1, 0xC2, 0xC3, 0xC4, 0, 0, 0, 0xFF, 0x80, 0, 0, 0, 0x0B, 0, -1};
         for (int i = 0; i < want.length; i++) House.due("byte " + i, h.written(0, i), want[i]);
         House.due("the tape is used up", h.end(1), -1);
+        // also by what is refused
+        House house = new House();
+        house.tape("W 1").house.process();
+        House.due("behind process", house.house.end(1), -1);
+        house.tape("(").house.process();
+        House.due("behind a bad process", house.house.end(1), -1);
+        house.tape("x").house.tell(9);
+        House.due("behind tell", house.house.end(1), -1);
+        house.tape("A").house.look(0, 9);
+        House.due("behind look", house.house.end(1), -1);
+        house.tape("A W").house.save(1);
+        House.due("behind save", house.house.end(1), -1);
+        for (int i = 1; i < 6; i++) house.process("H 1");
+        house.tape("H 1");
+        House.due("FULL", house.house.process(), -4);
+        House.due("behind FULL", house.house.end(1), -1);
     }
 
     private static void saves() {
@@ -83,6 +99,7 @@ public final class FaceTest {
         for (int i = 3; i < 16; i++) House.due("save", h.save("R" + i, " W " + i), 1);
         House.due("no room", h.save("R16", ""), -4);
         House.due("a fault first", h.save("R16", "("), -10);
+        for (String name : new String[] {"ABCDEFGH", "%1", "AB", "R3", "R9", "R14"}) House.due("in its place", h.save(name, " W 14"), 1);
         House.due("in its place", h.save("R15", " W 1\n W 2\n"), 3);
         House.due("routines", h.house.count(0), 16);
         House.due("it is that", h.run("D ^R15,^R14"), "1214");

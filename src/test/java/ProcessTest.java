@@ -82,7 +82,10 @@ public final class ProcessTest {
         House.due("written", h.written(p), "0,32");
         p = h.process("H 2000000000 W 1");
         h.house.turns(1);
-        h.house.time(2000000000);
+        House.due("time", h.house.time(2000000001), -1);
+        House.due("time", h.house.time(4), -1);
+        House.due("time", h.house.time(5), 0);
+        House.due("time", h.house.time(2000000000), 1999999995);
         House.due("turns", h.house.turns(9), 0);
         House.due("state", h.house.state(p, 0), 2);
         House.due("halt", h.house.halt(p), 1);
