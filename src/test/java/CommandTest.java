@@ -176,6 +176,9 @@ public final class CommandTest {
         run("S A(1)=1,A(2)=2 M A(1)=A(2) W A(1)", "2");
         run("S A(1,5)=1 M A(2)=A(1) W A(2,5)", "1");
         run("S A=7 M ^A=A,^A(1)=A W ^A,^A(1)", "77");
+        run("S ^A=7 M A=^A,A(1)=^A W A,A(1)", "77");
+        run("M A=A", "{,M19,}");
+        run("M A=B,B=A(1),^A=^B W $D(A),$D(B),$D(^A)", "000");
         run("S A(1,2,3)=1 M B(1,2,3)=A W B(1,2,3,1,2,3) M B(1,2,3,4)=A", "1{,Z2,}");
         run("A(X) M X(1)=V Q", "S V=1 D A^R(.V)", "{,M19,}");
         run("A(X) M X=V(1) Q", "S V(1)=1 D A^R(.V)", "{,M19,}");
@@ -184,6 +187,7 @@ public final class CommandTest {
     private static void writes() {
         run("W 1,!,2,#,\"ab\",?5,3,*65,*300,*-1,!!,?2,4,!#?3,5", "1\n2\fab   3A\n\n  4\n\f   5");
         run("W $X,\"abc\",$X,?2,$X,!,$X,$Y,#,$X,$Y", "0abc45\n01\f00");
+        run("W *0,*1,*254,*255,*256,*-1,*1.9,$X", "\0\1\u00fe\u00ff\1" + "5");
         run("W *10,*12,\"a\"_$C(10)_\"b\" W $X,$Y", "\n\fa\nb11");
         run("W ?1000000,$X,?-5,$X W ?3E9,$X", "012");
         House h = new House();
@@ -200,6 +204,10 @@ public final class CommandTest {
     }
 
     private static void calls() {
+        // no command takes from what is in hand below its level
+        String all = "W ?1 R \"x\",Y:0 W *65,! S A=1,$P(B,2,3)=4,(C(1),D)=5,$E(E,2)=6 K A,C(1) M F=B L +A,-A:1,+(A,B(1)):1 H 0 I 1,2 X \"W 1\",\"Q\" D L^R,L^R() "
+            + "N G,(N) F I=1:1:2,3 S J=1_2 F K=1:1 Q:K>1";
+        House.due("in hand", House.of("F(N) Q:N=0 6 " + all + "\n Q 5_$$F(N-1)\nL() Q", "S (X,Y(1,2))=7_(8_(9_$$F^R(2))) W X,Y(1,2)"), " xA\n1xA\n1789556789556");
         run("F(A,B) Q A+B", "W $$F^R(1,2),$$F^R(\"3x\",-1)", "32");
         run("F Q 1", "W $$^R,$$F^R,$$F^R+1", "112");
         run("F() Q 1", "W $$F^R(),$$F^R", "11");

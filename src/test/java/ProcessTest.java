@@ -209,6 +209,18 @@ public final class ProcessTest {
         h.house.halt(a);
         h.house.turns(20);
         House.due("written", h.written(others[0]), "1");
+        // one second is waited for, none is not
+        h = new House();
+        h.process("L A R X");
+        h.house.turns(3);
+        for (int n = -1; n <= 1; n++) {
+            int p = h.process("I 1 L +A:" + n + " W $T");
+            h.house.turns(20);
+            House.due("state", h.house.state(p, 0), n > 0 ? 1 : 4);
+            h.house.time(n + 1);
+            h.house.turns(20);
+            House.due("written", h.written(p), "0");
+        }
         // a LOCK without + lets go before it waits, and what went stays so
         h = new House();
         a = h.process("L A R X");

@@ -98,6 +98,10 @@ public final class TransactionTest {
     }
 
     private static void kept() {
+        // a transaction whose level is over ends with Z6; another one is as ever
+        run("S $ET=\"W $TR\" X \"TS () W $TR TRE:$TR<1\" TRE", "010{,Z6,}");
+        run("S $ET=\"S $EC=\"\"\"\" TS () W $TR TRE:$TR<1  TC\" X \"TS ()\" TRE", "01");
+        run("A S $ET=\"S $EC=\"\"\"\" TS () W $TR TRE:$TR<1  TC\"\n F I=1:1:2 TS () Q\n TRE", "D A^R", "01");
         run("S A=1,B=1 TS (A) W A,B,\" \" S A=A+1,B=B+1 TRE:$TR<2  W A TC", "11 12 13 2");
         run("S A=1,A(1)=2 TS (A) K A S A(2)=5 TRE:$TR<1  W $D(A),$D(A(1))", "100");
         run("S A=1,A(1)=2 TS (A) W A,$D(A(1)),$D(A(2)) K A S A(2)=5 TRE:$TR<1", "110110");
@@ -227,7 +231,14 @@ public final class TransactionTest {
     }
 
     private static void units() {
+        // what a transaction that was undone did is not in the next one's unit
         House h = new House();
+        h.run("TS  S ^A=1 TRO  TS  S ^B=2 TC");
+        House.due("units", h.house.count(12), 1);
+        House.due("bytes", h.house.count(13), 7);
+        h.run("TS () S ^A=1 TRE:$TR<1  S ^C=3 TC");
+        House.due("bytes", h.house.count(13), 7 + 13);
+        h = new House();
         h.process("S ^A=1 TS  S ^A=2,^B(1)=3 K ^A,^Z TC");
         h.house.turns(20);
         House.due("units", h.house.count(12), 2);
