@@ -698,7 +698,7 @@ public final class MumpsHouse {
             return fit(minus, high * POWERS[18 - n] + rest / POWERS[n], (int) (rest / POWERS[n - 1] % 10), e + power + n, LOWEST);
         }
 
-        /** The exact quotient, or that cut to a whole number. */
+        /** The exact quotient, or that cut to a whole number. Ten times what is left may be no long; so it is times 5, then times 2. */
         private int divide(Num by, boolean whole) {
             long y = Math.abs(by.m), x = Math.abs(m);
             if (y == 0) return BY_ZERO;
@@ -709,8 +709,9 @@ public final class MumpsHouse {
             int steps = whole ? power : 60;
             if (whole) power = 0;
             for (int i = 0; i < steps && (whole || left != 0 && behind < 0); i++) {
-                int d = (int) Long.divideUnsigned(left * 10, y);
-                left = Long.remainderUnsigned(left * 10, y);
+                long five = left * 5, ten = five % y * 2;
+                int d = (int) (five / y * 2 + ten / y);
+                left = ten % y;
                 if (digits(v) < 18) {
                     v = v * 10 + d;
                     if (!whole) power--;
@@ -722,7 +723,7 @@ public final class MumpsHouse {
             return fit(minus, v, behind, power, LOWEST);
         }
 
-        /** Less by times the greatest whole number not above the quotient; changes the sign of by. */
+        /** Less by times the greatest whole number not above the quotient; changes the sign of by. Times 10 as in divide. */
         private int modulo(Num by) {
             long y = Math.abs(by.m), x = Math.abs(m);
             if (y == 0) return BY_ZERO;
@@ -730,7 +731,7 @@ public final class MumpsHouse {
             int low = Math.min(e, by.e), apart = by.e - e;
             if (apart <= 0) {
                 left = x % y;
-                for (int i = 0; i < -apart; i++) left = Long.remainderUnsigned(left * 10, y);
+                for (int i = 0; i < -apart; i++) left = left * 5 % y * 2 % y;
             } else if (digits(y) + apart <= 18) {
                 left = x % (y * POWERS[apart]);
             }

@@ -11,6 +11,7 @@ public final class NumberTest {
 
     public static void main(String[] args) {
         edges();
+        greatDivisors();
         for (int i = 0; i < 400; i++) {
             House house = new House();
             for (int k = 0; k < 12; k++) operation(house);
@@ -57,6 +58,21 @@ public final class NumberTest {
         due("W -7\\2,-7#2,7#-2,-7#-2", "-31-1-1");
         due("W 1E-30#1E29", "." + "0".repeat(29) + "1");
         due("W 1E10=10000000000,\"1E10\"=1E10,\"1E10\"+0=1E10", "101");
+    }
+
+    /** Ten times what is left of these is no long any more. */
+    private static void greatDivisors() {
+        String[] divisors = {"999999999999999999", "-999999999999999998", "922337203685477581", "-922337203685477580.", "999999999999.999999", "-.500000000000000001"};
+        String[] dividends = {"1", "-2", "999999999999999998", "922337203685477579E11", "-999999999999999997E-30", "123456789012345678E12", "7E-30"};
+        for (String b : divisors) {
+            for (String a : dividends) {
+                for (char op : "/\\#".toCharArray()) operation(new House(), new BigDecimal(a), op, new BigDecimal(b));
+            }
+        }
+        due("W 999999999999999998/999999999999999999", ".999999999999999999");
+        due("W 1E29\\999999999999999999", "100000000000");
+        due("W 1E29#999999999999999999", "100000000000");
+        due("W -1E29#999999999999999999", "999999899999999999");
     }
 
     private static void canonic(String... numbers) {
@@ -106,19 +122,23 @@ public final class NumberTest {
 
     private static void operation(House house) {
         BigDecimal a = number(), b = random.nextInt(12) == 0 ? BigDecimal.ZERO : number();
-        String op = "+-*/\\#<>".substring(random.nextInt(8)).substring(0, 1), want;
+        operation(house, a, "+-*/\\#<>".charAt(random.nextInt(8)), b);
+    }
+
+    private static void operation(House house, BigDecimal a, char op, BigDecimal b) {
+        String want;
         boolean zero = b.signum() == 0;
         MathContext exact = new MathContext(200, RoundingMode.DOWN);
         switch (op) {
-            case "+": want = text(fit(a.add(b))); break;
-            case "-": want = text(fit(a.subtract(b))); break;
-            case "*": want = text(fit(a.multiply(b))); break;
-            case "/": want = zero ? "{,M9,}" : text(fit(a.divide(b, exact))); break;
-            case "\\": want = zero ? "{,M9,}" : text(fit(a.divide(b, exact).setScale(0, RoundingMode.DOWN))); break;
-            case "#":
+            case '+': want = text(fit(a.add(b))); break;
+            case '-': want = text(fit(a.subtract(b))); break;
+            case '*': want = text(fit(a.multiply(b))); break;
+            case '/': want = zero ? "{,M9,}" : text(fit(a.divide(b, exact))); break;
+            case '\\': want = zero ? "{,M9,}" : text(fit(a.divide(b, exact).setScale(0, RoundingMode.DOWN))); break;
+            case '#':
                 want = zero ? "{,M9,}" : text(fit(a.subtract(b.multiply(a.divide(b, exact).setScale(0, RoundingMode.FLOOR)))));
                 break;
-            case "<": want = a.compareTo(b) < 0 ? "1" : "0"; break;
+            case '<': want = a.compareTo(b) < 0 ? "1" : "0"; break;
             default: want = a.compareTo(b) > 0 ? "1" : "0"; break;
         }
         if (want == null) want = "{,M92,}";
