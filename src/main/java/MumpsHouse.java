@@ -12,8 +12,6 @@ public final class MumpsHouse {
     private static final int GREATEST_WHOLE = 2000000000, MILLION = 1000000, DAY = 86400, MOST_TURNS = 400, GREATEST_CUT = 2000;
     /** A local without a value needs a cell only while two names are one, which hides one of them at least. */
     private static final int MOST_CELLS = 4200, MOST_NAMES = 1500;
-    /** The document tells no bound for what texts of @ in each other may do in one turn. */
-    private static final int MOST_STEPS = 1000000;
 
     private static final int LOWEST = -30;
     private static final long BILLION = 1000000000L, NEVER = 1L << 62;
@@ -194,19 +192,25 @@ public final class MumpsHouse {
             int chosen = machine.choose();
             if (chosen == NONE) break;
             went += chosen;
-            for (int k = 0; k < MOST_STEPS && chosen == 1 && machine.phase != STOPPED; k++) {
-                int word = machine.error == 0 && machine.phase == GOING ? machine.fetch() : NO_OP, op = word & 255;
-                if (machine.error != 0) machine.unwind();
-                else if (machine.phase >= READING) machine.readingEnded(machine.work.text.readPiece(machine.phase - READING));
-                else if (machine.phase == LINE_OVER) machine.endLine();
-                else if (machine.phase == LEVEL_OVER || machine.phase == LEVEL_VALUED) machine.endLevel(machine.phase == LEVEL_VALUED);
-                else if (machine.phase == RESTARTING) machine.restart();
-                else if (op <= LAST_OF_EXPRESSIONS) machine.expression(op, word >>> 8);
-                else if (op <= LAST_OF_ENTRIES) machine.enter(op, word >>> 8);
-                else if (op <= LAST_OF_FLOW) machine.flow(op, word >>> 8);
-                else machine.act(op, word >>> 8);
+            // texts of @ in each other make far more words than a long can count, 2 to the 204 at most: four count them
+            for (long a = 0; a < NEVER && machine.phase != STOPPED; a++) {
+                for (long b = 0; b < NEVER && machine.phase != STOPPED; b++) {
+                    for (long c = 0; c < NEVER && machine.phase != STOPPED; c++) {
+                        for (long d = 0; d < NEVER && machine.phase != STOPPED; d++) {
+                            int word = machine.error == 0 && machine.phase == GOING ? machine.fetch() : NO_OP, op = word & 255;
+                            if (machine.error != 0) machine.unwind();
+                            else if (machine.phase >= READING) machine.readingEnded(machine.work.text.readPiece(machine.phase - READING));
+                            else if (machine.phase == LINE_OVER) machine.endLine();
+                            else if (machine.phase == LEVEL_OVER || machine.phase == LEVEL_VALUED) machine.endLevel(machine.phase == LEVEL_VALUED);
+                            else if (machine.phase == RESTARTING) machine.restart();
+                            else if (op <= LAST_OF_EXPRESSIONS) machine.expression(op, word >>> 8);
+                            else if (op <= LAST_OF_ENTRIES) machine.enter(op, word >>> 8);
+                            else if (op <= LAST_OF_FLOW) machine.flow(op, word >>> 8);
+                            else machine.act(op, word >>> 8);
+                        }
+                    }
+                }
             }
-            if (chosen == 1 && machine.phase != STOPPED) machine.stopRunning();
         }
         return went;
     }
@@ -440,6 +444,12 @@ public final class MumpsHouse {
             bytes = new byte[most];
         }
 
+        private static Row[] many(int rows, int most) {
+            Row[] all = new Row[rows];
+            for (int i = 0; i < all.length; i++) all[i] = new Row(most);
+            return all;
+        }
+
         private void clear() {
             length = 0;
             kind = 0;
@@ -556,6 +566,12 @@ public final class MumpsHouse {
 
         private Num(int places) {
             row = new int[places];
+        }
+
+        private static Num[] many(int numbers) {
+            Num[] all = new Num[numbers];
+            for (int i = 0; i < all.length; i++) all[i] = new Num(0);
+            return all;
         }
 
         private void copy(Num n) {
@@ -831,6 +847,12 @@ public final class MumpsHouse {
         private boolean bad;
         private boolean lastEmpty;
 
+        private static Node[] many(int nodes) {
+            Node[] all = new Node[nodes];
+            for (int i = 0; i < all.length; i++) all[i] = new Node();
+            return all;
+        }
+
         private void begin(int ofKind, long ofName) {
             kind = ofKind;
             name = ofName;
@@ -1003,8 +1025,8 @@ public final class MumpsHouse {
         private int behind;
 
         private Tree(int most, boolean sortedByName) {
-            nodes = new Node[most];
-            values = new Row[most];
+            nodes = Node.many(most);
+            values = Row.many(most, LONGEST);
             order = new int[most];
             spare = new int[most];
             byName = sortedByName;
@@ -1060,14 +1082,6 @@ public final class MumpsHouse {
             return standing(i + here, key) == 1 ? here + 10 : here;
         }
 
-        /** Makes rows where none were yet. */
-        private boolean prepare(int p) {
-            if (p < 0 || p >= nodes.length || p >= values.length) return false;
-            if (nodes[p] == null) nodes[p] = new Node();
-            if (values[p] == null) values[p] = new Row(LONGEST);
-            return true;
-        }
-
         private boolean put(Node key, Row value) {
             int i = place(key, AT);
             if (standing(i, key) == 0) {
@@ -1077,9 +1091,8 @@ public final class MumpsHouse {
             }
             if (count >= order.length || i < 0 || i > count) return false;
             int p = order[count];
-            if (!prepare(p)) return false;
-            Node n = nodes[p];
-            Row v = values[p];
+            Node n = p >= 0 && p < nodes.length ? nodes[p] : null;
+            Row v = p >= 0 && p < values.length ? values[p] : null;
             if (n == null || v == null) return false;
             n.copy(key);
             v.copy(value);
@@ -1157,13 +1170,13 @@ public final class MumpsHouse {
             if (!hasRoom(many)) return;
             for (int i = 0; i < many; i++) {
                 int p = order[count + i];
-                Node n = node(from + i);
-                Row v = value(from + i);
+                Node n = node(from + i), to = p >= 0 && p < nodes.length ? nodes[p] : null;
+                Row v = value(from + i), toValue = p >= 0 && p < values.length ? values[p] : null;
                 spare[i] = p;
-                if (prepare(p) && n != null && v != null && nodes[p] != null && values[p] != null) {
-                    nodes[p].copy(n);
-                    nodes[p].owner = owner;
-                    values[p].copy(v);
+                if (n != null && v != null && to != null && toValue != null) {
+                    to.copy(n);
+                    to.owner = owner;
+                    toValue.copy(v);
                 }
             }
             key.owner = owner;
@@ -1213,6 +1226,12 @@ public final class MumpsHouse {
             levels = new int[mostLines];
             labels = new long[mostLines];
             formals = new int[mostLines];
+        }
+
+        private static Text[] many(int texts, int most, int mostLines) {
+            Text[] all = new Text[texts];
+            for (int i = 0; i < all.length; i++) all[i] = new Text(most, mostLines);
+            return all;
         }
 
         private boolean load(byte[] from, int start, int many) {
@@ -2075,6 +2094,12 @@ public final class MumpsHouse {
         private boolean trapped;
         private final Text own = new Text(LONGEST, 1);
         private final Text trapText = new Text(LONGEST, 1);
+
+        private static Level[] many(int levels) {
+            Level[] all = new Level[levels];
+            for (int i = 0; i < all.length; i++) all[i] = new Level();
+            return all;
+        }
     }
 
     /** A process; what it needs only while it lives is its Work. */
@@ -2093,6 +2118,12 @@ public final class MumpsHouse {
         private long stream;
         private final Row code = new Row(LONGEST);
         private final Row out = new Row(MOST_WRITTEN);
+
+        private static Proc[] many(int processes) {
+            Proc[] all = new Proc[processes];
+            for (int i = 0; i < all.length; i++) all[i] = new Proc();
+            return all;
+        }
 
         private void begin(int n, Work w) {
             number = n;
@@ -2126,24 +2157,24 @@ public final class MumpsHouse {
 
     /** What a living process has at hand. */
     private static final class Work {
-        private final Row[] strings = new Row[MOST_STRINGS];
+        private final Row[] strings = Row.many(MOST_STRINGS, LONGEST);
         private int stringCount;
-        private final Node[] nodes = new Node[MOST_NODES];
+        private final Node[] nodes = Node.many(MOST_NODES);
         private int nodeCount;
-        private final Level[] levels = new Level[MOST_LEVELS];
+        private final Level[] levels = Level.many(MOST_LEVELS);
         private int levelCount;
         /** The texts of @ that are being worked. */
-        private final Text[] ats = new Text[MOST_AT];
+        private final Text[] ats = Text.many(MOST_AT, LONGEST, 1);
         private int atCount;
         /** Of each open FOR: where its part begins, where its next range is, how many numbers its range has. */
         private final int[] loops = new int[3 * MOST_LOOPS];
         private final long[] loopNames = new long[MOST_LOOPS];
-        private final Num[] steps = new Num[MOST_LOOPS];
-        private final Num[] limits = new Num[MOST_LOOPS];
+        private final Num[] steps = Num.many(MOST_LOOPS);
+        private final Num[] limits = Num.many(MOST_LOOPS);
         private int loopCount;
         private Text text;
         private int place;
-        private final Row[] told = new Row[MOST_TOLD];
+        private final Row[] told = Row.many(MOST_TOLD, LONGEST);
         private int toldCount;
         /** The node that was last met as a global; a local while there is none. */
         private final Node naked = new Node();
@@ -2153,6 +2184,13 @@ public final class MumpsHouse {
 
         private Work(int slot) {
             owner = slot;
+        }
+
+        /** Their numbers are 1, 2, .. */
+        private static Work[] many(int works) {
+            Work[] all = new Work[works];
+            for (int i = 0; i < all.length; i++) all[i] = new Work(i + 1);
+            return all;
         }
 
         private void begin() {
@@ -2188,8 +2226,8 @@ public final class MumpsHouse {
         /** One string in hand more; null if there is no room. */
         private Row push() {
             if (stringCount < 0 || stringCount >= strings.length) return null;
-            if (strings[stringCount] == null) strings[stringCount] = new Row(LONGEST);
             Row r = strings[stringCount];
+            if (r == null) return null;
             r.clear();
             stringCount++;
             return r;
@@ -2201,8 +2239,8 @@ public final class MumpsHouse {
 
         private Node pushNode(int kind, long name) {
             if (nodeCount < 0 || nodeCount >= nodes.length) return null;
-            if (nodes[nodeCount] == null) nodes[nodeCount] = new Node();
             Node n = nodes[nodeCount];
+            if (n == null) return null;
             n.begin(kind, name);
             nodeCount++;
             return n;
@@ -2215,8 +2253,8 @@ public final class MumpsHouse {
         /** One level more; null if there is no room. */
         private Level pushLevel(int kind, int test) {
             if (levelCount < 0 || levelCount >= levels.length) return null;
-            if (levels[levelCount] == null) levels[levelCount] = new Level();
             Level l = levels[levelCount], under = top();
+            if (l == null) return null;
             l.kind = kind;
             l.text = text;
             l.line = 0;
@@ -2250,15 +2288,13 @@ public final class MumpsHouse {
 
         /** A row for a text of @; null if there is no room. */
         private Text nextAt() {
-            if (atCount < 0 || atCount >= ats.length) return null;
-            if (ats[atCount] == null) ats[atCount] = new Text(LONGEST, 1);
-            return ats[atCount];
+            return atCount >= 0 && atCount < ats.length ? ats[atCount] : null;
         }
 
         private boolean addTold(Row line) {
-            if (toldCount < 0 || toldCount >= told.length) return false;
-            if (told[toldCount] == null) told[toldCount] = new Row(LONGEST);
-            told[toldCount].copy(line);
+            Row r = toldCount >= 0 && toldCount < told.length ? told[toldCount] : null;
+            if (r == null) return false;
+            r.copy(line);
             toldCount++;
             return true;
         }
@@ -2407,7 +2443,7 @@ public final class MumpsHouse {
     /** What lasts: globals, routines, the disk; and what all processes share: locks, the time, the turns. */
     private static final class House {
         private final Tree globals = new Tree(MOST_GLOBALS, true);
-        private final Text[] routines = new Text[MOST_ROUTINES];
+        private final Text[] routines = Text.many(MOST_ROUTINES, MOST_TEXT, MOST_LINES);
         private int routineCount;
         /** What is read next as a routine comes here first. */
         private Text spare = new Text(MOST_TEXT, MOST_LINES);
@@ -2420,7 +2456,7 @@ public final class MumpsHouse {
         private int tear;
         private int torn;
         private boolean down;
-        private final Node[] locks = new Node[MOST_LOCKS];
+        private final Node[] locks = Node.many(MOST_LOCKS);
         private int lockCount;
         private int second;
         private long x;
@@ -2442,11 +2478,11 @@ public final class MumpsHouse {
         private void keep(long name) {
             int i = routineOf(name);
             if (i < 0) i = routineCount;
-            if (i >= routines.length) return;
-            Text old = routines[i];
+            Text old = i < routines.length ? routines[i] : null;
+            if (old == null) return;
             routines[i] = spare;
             spare.name = name;
-            spare = old != null ? old : new Text(MOST_TEXT, MOST_LINES);
+            spare = old;
             if (i == routineCount) routineCount++;
         }
 
@@ -2512,9 +2548,8 @@ public final class MumpsHouse {
         private boolean hold(Node n, int process) {
             Node l = held(lockOf(n, process));
             if (l == null) {
-                if (lockCount >= locks.length) return false;
-                if (locks[lockCount] == null) locks[lockCount] = new Node();
-                l = locks[lockCount];
+                l = lockCount >= 0 && lockCount < locks.length ? locks[lockCount] : null;
+                if (l == null) return false;
                 l.copy(n);
                 l.owner = process;
                 l.times = 0;
@@ -2683,9 +2718,9 @@ public final class MumpsHouse {
         private final Tree locals = new Tree(MOST_LOCALS, false);
         /** How many names, seen, hidden and kept, each cell of locals has. */
         private final int[] references = new int[MOST_CELLS];
-        private final Proc[] procs = new Proc[MOST_PROCESSES];
+        private final Proc[] procs = Proc.many(MOST_PROCESSES);
         private int procCount;
-        private final Work[] works = new Work[MOST_LIVING];
+        private final Work[] works = Work.many(MOST_LIVING);
         private Proc proc;
         private Work work;
         private int phase = STOPPED;
@@ -2743,12 +2778,11 @@ public final class MumpsHouse {
         private Proc create() {
             int slot = 0;
             while (slot < works.length && isBusy(works[slot])) slot++;
-            if (slot >= works.length || procCount >= procs.length) return null;
-            if (works[slot] == null) works[slot] = new Work(slot + 1);
-            if (procs[procCount] == null) procs[procCount] = new Proc();
-            Proc p = procs[procCount];
-            works[slot].begin();
-            p.begin(procCount, works[slot]);
+            Work w = slot < works.length ? works[slot] : null;
+            Proc p = procCount >= 0 && procCount < procs.length ? procs[procCount] : null;
+            if (w == null || p == null) return null;
+            w.begin();
+            p.begin(procCount, w);
             procCount++;
             return p;
         }
@@ -2776,6 +2810,7 @@ public final class MumpsHouse {
             begun = proc.wait != RUNNING;
             if (!begun || ready()) return 1;
             house.counts[IDLE]++;
+            phase = STOPPED;
             return 0;
         }
 
@@ -2812,13 +2847,6 @@ public final class MumpsHouse {
         private void readingEnded(boolean right) {
             phase = GOING;
             if (!right) fail(BAD_TEXT);
-        }
-
-        /** A turn without an end that the document tells: there is no room for it. */
-        private void stopRunning() {
-            error = NO_ROOM;
-            addCode();
-            dismiss(proc, OVER_BY_ERROR);
         }
 
         private void addCode() {
@@ -3877,8 +3905,6 @@ public final class MumpsHouse {
                 fail(NO_ROOM);
                 return;
             }
-            if (work.steps[i] == null) work.steps[i] = new Num(0);
-            if (work.limits[i] == null) work.limits[i] = new Num(0);
             work.loops[3 * i] = body;
             work.loops[3 * i + 1] = body;
             work.loops[3 * i + 2] = 0;
