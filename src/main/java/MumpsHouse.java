@@ -533,7 +533,7 @@ public final class MumpsHouse {
         return c >= '0' && c <= '9' || c >= 'A' && c <= 'Z' || c >= 'a' && c <= 'z';
     }
 
-    /** The name (or label) at a place as one number: sorted as numbers without sign names are sorted by their bytes. */
+    /** The name (or label) at a place as one number: its bytes are below 128, so names are sorted by their bytes as these numbers are. */
     private static long packed(byte[] from, int start, int end) {
         long name = 0;
         int i = 0;
@@ -984,7 +984,7 @@ public final class MumpsHouse {
         /** Less than 0: before the key; 0: the same; 1: below it; 2: behind it and all below. */
         private static int order(Node n, Node to, boolean byName) {
             if (n.owner != to.owner) return n.owner < to.owner ? -1 : 2;
-            if (byName && n.name != to.name) return Long.compareUnsigned(n.name, to.name) < 0 ? -1 : 2;
+            if (byName && n.name != to.name) return Long.compare(n.name, to.name) < 0 ? -1 : 2;
             byte[] x = n.key, y = to.key;
             int at = 0;
             while (at < n.length && at < to.length && at < x.length && at < y.length) {
@@ -2353,7 +2353,7 @@ public final class MumpsHouse {
             int low = 0, high = Math.min(count, names.length);
             while (low < high) {
                 int middle = low + high >>> 1;
-                if (Long.compareUnsigned(names[middle], name) < 0) low = middle + 1;
+                if (Long.compare(names[middle], name) < 0) low = middle + 1;
                 else high = middle;
             }
             return low;
@@ -2608,7 +2608,8 @@ public final class MumpsHouse {
         }
 
         private static int summed(int s, int b) {
-            return Integer.rotateLeft(s ^ b, 9) * 0x9E3779B1;
+            int x = s ^ b;
+            return (x << 9 | x >>> 23) * 0x9E3779B1;
         }
 
         /** Writes what waits: how many blocks, or LOST. */
@@ -3361,7 +3362,7 @@ public final class MumpsHouse {
                     one = globalBeside(one, direction, 0);
                 }
                 long two = copies ? globalBeside(name, direction, work.owner) : 0;
-                boolean second = two != 0 && (one == 0 || Long.compareUnsigned(two, one) < 0 == direction > 0);
+                boolean second = two != 0 && (one == 0 || Long.compare(two, one) < 0 == direction > 0);
                 if (one != 0 || two != 0) out.add('^');
                 out.addName(second ? two : one);
                 return;

@@ -6,9 +6,12 @@ import java.util.Map;
 import java.util.regex.Matcher;
 import java.util.regex.Pattern;
 
-/** Rule 4 of LANGUAGE.md: of the library's static functions the program calls only what stands there; it runs in the project's folder. */
+/**
+ * Rule 4 of LANGUAGE.md: of the library's static functions the program calls only what stands there. Rule 12: what is
+ * made is made in fields, constructors and what they call. It runs in the project's folder.
+ */
 public final class LanguageTest {
-    private static final List<String> NUMBERS = List.of("compare", "compareUnsigned", "max", "min", "abs", "bitCount", "floorDiv", "floorMod", "rotateLeft");
+    private static final List<String> NUMBERS = List.of("compare", "max", "min", "abs", "bitCount", "floorDiv", "floorMod");
     private static final Map<String, List<String>> LISTED = Map.of("Integer", NUMBERS, "Long", NUMBERS, "Math", NUMBERS,
         "System", List.of("arraycopy"), "Arrays", List.of("copyOf", "copyOfRange", "fill"), "List", List.of("of"));
     private static final List<String> UNKNOWN = List.of("String", "Character", "Byte", "Short", "Double", "Float", "Boolean", "Objects", "Collections");
@@ -25,7 +28,21 @@ public final class LanguageTest {
                 }
             }
         }
+        makers(lines);
         House.due("a program of many lines", lines.length > 1000 ? 1 : 0, 1);
         House.report();
+    }
+
+    /** Only a field, a constructor, or a function many(..), which fields alone call, makes an object or an array. */
+    private static void makers(String[] lines) {
+        String method = "";
+        for (int i = 0; i < lines.length; i++) {
+            String line = lines[i].replaceAll("//.*|^ */?\\*.*|\"([^\"\\\\]|\\\\.)*\"", "");
+            if (line.matches(" {4,8}(private|public) [^=;]*\\{")) method = line;
+            boolean field = line.matches(" {4,8}private [^({]* = .*;"), many = method.contains(" many("), inConstructor = method.matches(" *(private|public) [A-Z]\\w*\\(.*");
+            boolean makes = line.matches(".*\\bnew\\b.*"), calls = line.contains(".many(");
+            if (makes && !field && !many && !inConstructor) House.due("line " + (i + 1), line.strip(), "nothing made in a call");
+            if (calls && !field && !inConstructor) House.due("line " + (i + 1), line.strip(), "rows made by a field");
+        }
     }
 }

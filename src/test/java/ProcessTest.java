@@ -2,6 +2,7 @@
 public final class ProcessTest {
     public static void main(String[] args) {
         turns();
+        longTurn();
         waiting();
         reading();
         locks();
@@ -54,6 +55,21 @@ public final class ProcessTest {
         int p = g.process("W $$F^R(1)+$$F^R(2) D G^R,G^R");
         House.due("turns", g.house.turns(400), 1 + 2 + 2 + 1 + 2 + 2);
         House.due("written", g.written(p), "12311");
+    }
+
+    /** Texts of @ in each other are worked to their end in one turn, however many words they have. */
+    private static void longTurn() {
+        House h = new House();
+        int p = h.process("S $P(X,\"@B,\",70)=\"@B\" S A=X,B=$TR(X,\"B\",\"C\"),C=$TR(X,\"B\",\"D\"),D=1 W @A W 2");
+        House.due("turns before it", h.house.turns(2), 2);
+        House.due("written before it", h.house.state(p, 5), 0);
+        House.due("a turn of many words", h.house.turns(1), 1);
+        House.due("written by it", h.house.state(p, 5), 70 * 70 * 70);
+        House.due("kept of it", h.house.state(p, 8), 2000);
+        House.due("state behind it", h.house.state(p, 0), 0);
+        House.due("turns behind it", h.house.turns(9), 1);
+        House.due("written behind it", h.house.state(p, 5), 70 * 70 * 70 + 1);
+        House.due("over", h.house.state(p, 0), 4);
     }
 
     private static void began(String text, int turns, int began, int state) {
