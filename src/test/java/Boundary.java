@@ -64,13 +64,13 @@ class Boundary {
 
     static House house(String... processes) {
         House h = new House();
-        for (String p : processes) h.process(m(p));
+        for (int i = 0; i < processes.length; i++) due("the process " + processes[i], h.process(m(processes[i])), i);
         return h;
     }
 
     /** What one more process of a house writes, and its $ECODE in { }, others waiting. */
     static String done(House h, String text) {
-        int p = h.process(text);
+        int p = h.process(m(text));
         if (p < 0) return "refused " + p;
         for (int i = 0; i < 100 && h.house.state(p, 0) < 4; i++) h.house.turns(400);
         String answer = h.written(p), code = h.code(p);

@@ -18,7 +18,7 @@ public final class DiskTest {
         House.report();
     }
 
-    private static byte[] node(String name, String... subscripts) {
+    static byte[] node(String name, String... subscripts) {
         ByteArrayOutputStream b = new ByteArrayOutputStream();
         b.write(subscripts.length);
         b.write(name.length());
@@ -30,7 +30,7 @@ public final class DiskTest {
         return b.toByteArray();
     }
 
-    private static byte[] joined(Object... parts) {
+    static byte[] joined(Object... parts) {
         ByteArrayOutputStream b = new ByteArrayOutputStream();
         for (Object p : parts) {
             if (p instanceof Integer) b.write((Integer) p);
@@ -40,20 +40,20 @@ public final class DiskTest {
         return b.toByteArray();
     }
 
-    private static byte[] set(String value, String name, String... subscripts) {
+    static byte[] set(String value, String name, String... subscripts) {
         return joined(1, node(name, subscripts), value.length(), value);
     }
 
-    private static byte[] kill(String name, String... subscripts) {
+    static byte[] kill(String name, String... subscripts) {
         return joined(2, node(name, subscripts));
     }
 
-    private static byte[] routine(String name, String text) {
+    static byte[] routine(String name, String text) {
         return joined(3, name.length(), name, text.length() >> 8, text.length() & 255, text);
     }
 
     /** The blocks of a sync of these bytes, from a number on. */
-    private static List<byte[]> sync(int first, byte[] bytes) {
+    static List<byte[]> sync(int first, byte[] bytes) {
         List<byte[]> all = new ArrayList<>();
         for (int at = 0; at < bytes.length; at += 248) {
             byte[] b = new byte[256];
@@ -69,13 +69,13 @@ public final class DiskTest {
         return all;
     }
 
-    private static void sum(byte[] b) {
+    static void sum(byte[] b) {
         int s = 0;
         for (int i = 0; i < 252; i++) s = Integer.rotateLeft(s ^ b[i] & 255, 9) * 0x9E3779B1;
         for (int i = 0; i < 4; i++) b[252 + i] = (byte) (s >>> 24 - 8 * i);
     }
 
-    private static void disk(String what, House h, List<byte[]> want) {
+    static void disk(String what, House h, List<byte[]> want) {
         int wrong = 0;
         for (int k = 1; k <= 400; k++) {
             for (int i = 0; i < 256; i++) {
@@ -339,11 +339,11 @@ public final class DiskTest {
     }
 
     /** The house after START from these bytes as its one sync, of one block; so many units are done again. */
-    private static House from(int units, byte[] bytes) {
+    static House from(int units, byte[] bytes) {
         House h = new House();
         List<byte[]> blocks = sync(1, bytes);
         h.process("F I=0:1:" + blocks.size() + " S ^q=$J(1,250)");
-        h.house.turns(20);
+        for (int i = 0; i < 3; i++) h.house.turns(400);
         h.house.cut(blocks.size(), 0);
         h.house.sync();
         for (int k = 1; k <= blocks.size(); k++) {
