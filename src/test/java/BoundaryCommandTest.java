@@ -20,6 +20,8 @@ public final class BoundaryCommandTest extends Boundary {
         traps();
         rooms();
         inHand();
+        left();
+        lists();
         entries();
         actuals();
         House.report();
@@ -60,6 +62,10 @@ public final class BoundaryCommandTest extends Boundary {
     }
 
     private static void jumps() {
+        says("but the entry's own line is done whatever its level is; DO alone: the lines whose level is 1 more than this line's");
+        run(" . W 1 D  W 3\n ..W 2\n .W 9", "D ^R", "123");
+        run(" . W 1\nA W 2", "G +1^R", "{,M45,}");
+        run(" . W 1\nA G +1", "D A^R", "{,M45,}");
         says("GOTO: on from there, in the same level: FORs of this line are over");
         run("A F I=1:1:3 W I G B\n W 9\nB W 4,$ST", "D ^R W 5", "1415");
         run("A F I=1:1:3 D C\n W 5 Q\nC F J=1:1:3 W J G B\nB W 4", "D ^R", "1414145");
@@ -91,7 +97,8 @@ public final class BoundaryCommandTest extends Boundary {
         says("ELSE: with $TEST 1 the line is over");
         runs("I 1 E  W 1", "", "X `I 0` E  W 1", "1", "E  W 1", "1", "F I=1:1:3 W I X:I>1 `I 1` E  W `e`", "1e23");
         says("IF: $TEST becomes whether e is TRUE; 0: the line is over (with more arguments: the first that is not)");
-        runs("I `` W 1", "", "I `1x` W 1", "1", "I -1 W $T", "1", "X `I 0 W 1` W $T", "0", "X `I 1,0,1/0` W $T", "0", "X `I 1,1,1` W $T", "1", "X `I 0,1` W $T", "0", "I 1,1 W 1", "1", "F I=1:1:3 I I#2 W I", "13");
+        runs("I `` W 1", "", "I `1x` W 1", "1", "I -1 W $T", "1", "X `I 0 W 1` W $T", "0", "X `I 1,0,1/0` W $T", "0", "X `I 1,1,1` W $T", "1", "X `I 0,1` W $T", "0", "I 1,1 W 1", "1", "F I=1:1:3 I I#2 W I", "13", "S X=`0` F I=1:1:3 W I I @X W 9", "123", "S X=`1,I=2` F I=1:1:3 I @X W I", "2");
+        run("A S X=`0` I @X W 9\n W 1", "D ^R W 2", "12");
     }
 
     private static void quits() {
@@ -159,10 +166,10 @@ public final class BoundaryCommandTest extends Boundary {
 
     private static void sets() {
         says("SET: first subscripts of all targets from the left, then e, then the targets from the left");
-        runs("S I=1,A(I)=I,I=2 S (I,A(I))=I+5 W I,A(2)", "77", "S I=1 S (A(I),I,B(I))=2 W A(1),B(1)", "22", "S A=1 S (A,B)=A+1 W A,B", "22", "S (A,A(1),A)=5 W A,A(1)", "55", "S A(1/0)=B", "{,M9,}", "S A(B)=1/0", "{,M6,}", "S $P(A,B)=1/0", "{,M6,}");
+        runs("S I=1,A(I)=I,I=2 S (I,A(I))=I+5 W I,A(2)", "77", "S I=1 S (A(I),I,B(I))=2 W A(1),B(1)", "22", "S A=1 S (A,B)=A+1 W A,B", "22", "S (A,$ET,B)=5 W A,$ET,B", "555", "S (A,$EC,B)=`` W $D(A),$D(B)", "11", "S (A(1),$ET,$EC,$P(B,1,2),^C(2),$E(D,2))=`` W $D(A(1)),B,$D(^C(2)),D,$ET", "111 ", "S ($EC,$ET,A)=`` W $D(A)", "1", "S ($P(A,`,`,2),$ET,$E(B,2,3),C)=7 W A,$ET,B,C", ",77 77", "S (A,A(1),A)=5 W A,A(1)", "55", "S A(1/0)=B", "{,M9,}", "S A(B)=1/0", "{,M6,}", "S $P(A,B)=1/0", "{,M6,}");
         run("F S X=$G(X)_$G(Y) Q X", "S Y=1,(A($$F^R),B($$F^R))=$$F^R W $O(A(``)),$O(B(``)),A(1)", "111111");
         says("$ECODE: empty: it is; else , and one byte or more and , (else M101): it is that, and that is an error (with this code, nothing more is added)");
-        runs("S $EC=`` W 1", "1", "S $EC=`,a,` W 1", "{,a,}", "S $EC=`,a,b,` W 1", "{,a,b,}", "S $EC=`,,,` W 1", "{,,,}", "S $EC=`,`", "{,M101,}", "S $EC=`,,`", "{,M101,}", "S $EC=`a`", "{,M101,}", "S $EC=`,a`", "{,M101,}", "S $EC=`a,`", "{,M101,}", "S $EC=`abc`", "{,M101,}", "S $EC=1", "{,M101,}",
+        runs("S $EC=`` W 1", "1", "S $EC=`,a,` W 1", "{,a,}", "S $EC=`,a,b,` W 1", "{,a,b,}", "S $EC=`,,,` W 1", "{,,,}", "S $EC=`,`", "{,M101,}", "S $EC=`,,`", "{,M101,}", "S $EC=`a`", "{,M101,}", "S $EC=`,a`", "{,M101,}", "S $EC=`a,`", "{,M101,}", "S $EC=`abc`", "{,M101,}", "S $EC=`,ab`", "{,M101,}", "S $EC=`ab,`", "{,M101,}", "S $EC=`,a,b`", "{,M101,}", "S $EC=`a,b,`", "{,M101,}", "S $EC=1", "{,M101,}",
             "S $ET=`S $EC=```` W $EC,1` S $EC=`,a,`", "1", "S $ET=`S $EC=``,b,``` S $EC=`,a,`", "{,b,}", "S $ET=`S $EC=``b``` S $EC=`,a,`", "{,a,M101,}", "S ($EC,A)=`,a,`", "{,a,}", "S $ET=`S $EC=```` W $D(A),$D(B)` S (A,$EC,B)=`,a,`", "10");
         says("$ETRAP: this level's");
         runs("S $ET=`a b` W $ET X `W $ET S $ET=1 W $ET` W $ET", "a ba b1a b", "S $ET=`` W `[`,$ET,`]`", "[]", "S $ET=$J(1,250) W $L($ET)", "250");
@@ -184,6 +191,22 @@ public final class BoundaryCommandTest extends Boundary {
         runs("S A=1 X `N A W $D(A) S A=2 N A W $D(A) S A=3` W A", "001", "X `N A S A=1` W $D(A)", "0", "S A(1)=1 X `N A S A(2)=1` W $D(A(1)),$D(A(2))", "10", "S A=1 X `N A K A` W A", "1", "S A=1 N A W $D(A)", "0", "S A=1 X `N A,A S A=5` W A", "1", "S A=1 X `N B S A=5` W A", "5");
         run("A N X S X=2 D  W X Q\n .N X S X=3 W X", "S X=1 D ^R W X", "321");
         run("A N X S X=2 W 1/0", "S X=1,$ET=`S $EC=```` W X` D ^R", "1");
+        House h = house("S A=1,A(1)=2,B=3 X `N A S A=4 N B,A S A(2)=5` R X S C=1 X `N  S A=6,D=7` R X X `N (A,Z) S C=8,Z=9` R X");
+        turns(h, 40);
+        due("values", h.house.count(2) * 10 + h.house.state(0, 11), 33);
+        h.tell(0, "x");
+        turns(h, 40);
+        due("values, X and C, too", h.house.count(2) * 10 + h.house.state(0, 11), 55);
+        h.tell(0, "x");
+        turns(h, 40);
+        due("values, and Z", h.house.count(2) * 10 + h.house.state(0, 11), 66);
+        h.house.halt(0);
+        due("values", h.house.count(2), 0);
+        h = house("S A=1 N A S A=2 X `N  S B=1 R X`");
+        turns(h, 20);
+        due("values", h.house.count(2) * 10 + h.house.state(0, 11), 31);
+        h.house.halt(0);
+        due("hidden ones, too", h.house.count(2), 0);
         says("NEW alone all, ( NAMES ) all but these");
         runs("S A=1,B=2 X `N  W $D(A),$D(B) S A=3,C=4` W A,B,$D(C)", "00120", "S A=1,B=2 X `N (A) W $D(A),$D(B) S A=3,B=4,C=5` W A,B,$D(C)", "10320", "X `N  S A=1` W $D(A)", "0", "X `N (A) S A=1` W $D(A)", "1", "S A=1 X `N (A,B,C) S A=2` W A", "2", "S A=1 X `N  N  S A=2` W A", "1", "S A=1 X `N A S A=2 N  S A=3` W A", "1");
     }
@@ -290,6 +313,10 @@ public final class BoundaryCommandTest extends Boundary {
 
     private static void hangs() {
         says("HANG n: waits till n seconds later (not at all for 0 or less)");
+        House one = house("H 0,-1,.9 W 1");
+        one.house.turns(1);
+        due("it goes on", one.house.state(0, 0), 0);
+        due("in its next turn", one.house.turns(9), 1);
         House h = house("H 0 W 1 H -1 W 2 H .99 W 3 H -3E9 W 4 H `x` W 5", "H 1 W 1", "H 1.99 W 1", "H 2 W 1");
         turns(h, 60);
         due("not at all", h.written(0), "12345");
@@ -361,6 +388,11 @@ public final class BoundaryCommandTest extends Boundary {
         says("Each level has an $ETRAP of its own, empty at first (of DO alone and XECUTE: what the one below it has)");
         run("A W `[`,$ET,`]` D  X `W $ET` W $$B Q\n .W $ET S $ET=8\nB() Q `[`_$ET_`]`", "S $ET=7 D ^R", "[][]");
         run("A S $ET=7 D  X `W $ET S $ET=9` W $ET Q\n .W $ET S $ET=8 X `W $ET`", "D ^R", "7877");
+        run("A S $ET=`S $EC=```` W 1` W 0/0", "D ^R,^R W 2 D ^R", "1121");
+        run("A S $ET=`S $EC=```` Q 5 W 9` W 0/0", "W $$^R,1", "1");
+        run("A S $ET=`S $EC=```` W 1 Q  W 9` W 0/0", "D ^R W 2", "12");
+        run("A(X) S $ET=`S $EC=```` W X` W 0/0", "F I=1:1:3 X `D A^R(I)`", "123");
+        runs("S X=`S $ET=Y W 0/0`,Y=`S $EC=```` W 1` X X,X W 2", "112");
         says("DO alone does nothing in the trap's line itself, behind a GOTO out of it it does");
         run("A S $ET=`S $EC=```` D  W 1 G B^R` W 0/0\n .W 9\nB D  W 3 Q\n .W 2", "D ^R W 4", "1234");
         says("(it is till it is over, also behind a GOTO out of the trap's line");
@@ -487,6 +519,63 @@ public final class BoundaryCommandTest extends Boundary {
         nodes("S Z=$G(Q(C),$O(C(1),V))", 3);
     }
 
+    /** A line of a hundred arguments: what each of them had in hand is none any more when the next one begins. */
+    private static void hundred(String command, String argument, String behind, String want) {
+        String r = "A(X) S Q=1,Q(1)=2,P=`Q`,V=`W ?0`,Y=`1`,E=`L^R`,N=0,G=`1N`\n " + command + repeated(argument, 100, ",") + " " + behind + "\n Q\nL(X,Y) Q\nK(X) Q 0\nZ Q";
+        due(command + argument + " a hundred times", House.of(m(r), "D A^R(1)"), want);
+    }
+
+    private static void left() {
+        says("till the operator, function, node, call, command that has it is done");
+        String[] hundreds = {"K ", "Z", "K ", "Z(1,2)", "K ", "(A,Q,P,V,Y,E,N,G)", "L ", "+A(1)", "L ", "-A(1):1", "L ", "A:0", "L ", "+(A,A(2)):1", "H ", "0", "H ", "-1", "M ", "Z=Q", "M ", "Z(1)=U", "S ", "Z=1", "S ", "Z(1,2)=Q(1)", "S ", "$P(Z,1,2)=3", "S ", "$P(Z,``,2)=3", "S ", "$P(Z,1,2,1)=3", "S ", "$E(Z,2)=3", "S ", "$E(Z,2,1)=3",
+            "S ", "$ET=1", "S ", "$EC=``", "S ", "(Z,U)=1", "S ", "@P=Q", "S ", "@P@(1)=2", "W ", "*-1", "W ", "?0", "W ", "``", "W ", "$E(1,2)", "I ", "1", "I ", "@Y", "X ", "``", "X ", "V", "X ", "1:0", "X ", "@Y:0", "D ", "L^R", "D ", "L^R(1,.Z)", "D ", "L^R()", "D ", "L+0^R", "D ", "+4^R", "D ", "@E", "D ", "@E:1", "D ", "L:N", "G ", "@E:N", "G ", "L:N",
+            "S ", "Z=$O(Q(0),1)", "S ", "Z=$O(Q,-1)", "S ", "Z=$NA(Q(1),1)", "S ", "Z=$G(Q(1),2)", "S ", "Z=$G(Q(2),2)", "S ", "Z=$D(Q)", "S ", "Z=$Q(Q)", "S ", "Z=$T(+1^R)", "S ", "Z=$T(L+1)", "S ", "Z=$$K(1)", "S ", "Z=$$K(.U)", "S ", "Z=$P(1,2,3,4)", "S ", "Z=1?@G", "S ", "Z=1?1N", "S ", "Z=@P", "S ", "Z=$S(0:1,1:2)", "S ", "Z=1+2*3_4", "S ", "Z=-1", "S ", "Z=$C(1,2,3)",
+            "S ", "Z=$J(1,2,3)", "S ", "Z=$F(1,2,3)", "S ", "Z=$TR(1,2,3)", "S ", "Z=$L(1,2)", "S ", "Z=$A(1,2)", "S ", "Z=$QS(`A(1)`,1)", "S ", "Z=$FN(1,2)"};
+        for (int i = 0; i < hundreds.length; i += 2) hundred(hundreds[i], hundreds[i + 1], "S $ET=`` W 5", "5");
+        hundred("N ", "Z", "W 5", "5");
+        hundred("R ", "!", "W 5", "\n".repeat(100) + "5");
+        hundred("R ", "Z:0", "W 5", "5");
+        hundred("F I=", "1", "S N=N+1 W:N=100 5", "5");
+        hundred("F I=", "1:1:1", "S N=N+1 W:N=100 5", "5");
+        hundred("F I=", "1:1:0", "W 9", "");
+        run("A " + repeated("W:0 1", 100, " ") + " W 5", "D ^R", "5");
+        run("A " + repeated("TS * TC", 60, "  ") + "  W 5", "D ^R", "5");
+        run("A " + repeated("TS (A) TRO", 60, "  ") + "  W 5", "D ^R", "5");
+        run("A S X=`D`\nB S I=$G(I)+1 W:I=50 I Q:I=50  S L=`B` G @L", "D ^R", "50");
+        runs("S X=`0` F I=1:1:50 I @X", "", "S X=`1` F I=1:1:50 I @X W:I=50 5", "5");
+        says("What an expression was at is given up");
+        String twenty = repeated("X", 20, ",");
+        run("A S $ET=`S $EC=````` S (" + twenty + ")=1/0", "F I=1:1:20 D ^R W:I=20 5", "5");
+        run("A S $ET=`S $EC=````` W 1_(2_(3_(4_(5_(6_(7_(8_1/0)))))))", "F I=1:1:20 D ^R W:I=20 5", "5");
+        run("A S $ET=`S $EC=````` W @`1/0`", "F I=1:1:40 D ^R W:I=40 5", "5");
+        run("A S $ET=`S $EC=````` F J=1 F K=1 F L=1 W 1/0", "F I=1:1:40 D ^R W:I=40 5", "5");
+        run("A S V=1,$ET=`S $EC=```` S (" + twenty + ")=V W 5` S (" + twenty + ")=1/0", "D ^R", "5");
+        run("A S $ET=`S $EC=```` F I=1 F I=1 F I=1 W 5` " + repeated("F I=1", 38, " ") + " W 1/0", "D ^R", "5");
+        run("A S $ET=`S $EC=```` X X`,X=`W 1/0` N A,B,C,D,E X X", "F I=1:1:61 D ^R W:I=61 5", "{,Z1,}");
+        run("A S $ET=`S $EC=````` N A,B,C,D,E W 1/0", "F I=1:1:80 D ^R W:I=80 5", "5");
+        run("A S A(24)=`Y`,Y=7 F I=23:-1:1 S A(I)=`@A(`_(I+1)_`)`\n W 0+@`Y`,0+@A(2),0+@A(1)", "D ^R", "777");
+    }
+
+    private static void lists() {
+        says("( NAME , .. ): twenty of them");
+        String twenty = "";
+        for (int i = 1; i <= 20; i++) twenty += (i > 1 ? "," : "") + "A" + i;
+        String set = "S (" + twenty + ")=1,B=2 ";
+        run("R " + set + "K (" + twenty + ") W $D(A1),$D(A19),$D(A20),$D(B)", "D ^R", "1110");
+        run("R " + set + "N (" + twenty + ") W $D(A1),$D(A19),$D(A20),$D(B)", "D ^R W B", "11102");
+        run("R " + set + "TS (" + twenty + ") W A1,A19,A20,B S (" + twenty + ")=3,B=4 TRE:$TR<1", "D ^R", "11121114");
+        run("F(" + twenty + ") W $D(A1),$D(A19),$D(A20) Q", "D F^R(" + repeated("1", 20, ",") + ")", "111");
+        run("F(" + twenty + ") W $D(A1),$D(A19),$D(A20) Q", "D F^R(" + repeated("", 20, ",") + ")", "000");
+        run("F(" + twenty + ") S A20=5 Q", "D F^R(" + repeated("", 20, ",") + ".V) W V", "5");
+        run("R S (" + twenty + ")=7 W A1,A10,A20", "D ^R", "777");
+        run("AB S B=1 K  W $D(B)", "D ^R", "0");
+        run("AB S B=1 X `N  W $D(B)` N  W $D(B)", "D ^R", "00");
+        says("names come and go: there is always room for them");
+        runs("F I=1:1:1700 S @(`A`_I)=1 K @(`A`_I) I I=1700 W 5", "5", "F I=1:1:1700 S N=`A`_I X `N @N S @N=1` I I=1700 W 5", "5", "F I=1:1:1700 S N=`A`_I X `N (N) S @N=1` I I=1700 W 5", "5", "F I=1:1:1700 S @(`A`_I)=1 K (I) I I=1700 W 5", "5");
+        run("F(X) Q", "F I=1:1:1700 S N=`F^R(.A`_I_`)` D @N I I=1700 W 5", "5");
+        run("F(X) S X=1 K X Q", "F I=1:1:1700 S N=`F^R(.A`_I_`)` D @N I I=1700 W 5", "5");
+    }
+
     private static void entries() {
         String r = "A ;1\n W 2\nB W 3\n .W 9\n W 4";
         says("THE ENTRY: a label's line, and the e-th behind it; + e: the e-th line from the routine's beginning (+ 1 its first); ^ NAME its first line");
@@ -532,6 +621,7 @@ public final class BoundaryCommandTest extends Boundary {
         says("an e its value; nothing: none. Fewer actuals: the other formals are NEW");
         run("F(X,Y,Z) W $D(X),$D(Y),$D(Z) Q", "S (X,Y,Z)=1 D F^R(1) D F^R(,2) D F^R(,,) D F^R() D F^R(1,2,3)", "100010000000111");
         run("F(X) S X=5 Q", "S V=1 D F^R(V) W V", "1");
+        run("F(X) W X,$D(X) Q", "S A(1)=5,^B(2)=6 D F^R(A(1)),F^R(^B(2))", "5161");
         run("F(X) W $L(X) Q", "D F^R(``),F^R($J(1,250))", "0250");
         says("(Actuals: also ( ) alone. Without brackets nothing is NEW.)");
         run("F(X) W $D(X) S X=2 Q", "S X=1 D F^R() W X D F^R W X", "0112");

@@ -52,6 +52,14 @@ public final class BoundaryDiskTest extends Boundary {
         written("S ^A=``", DiskTest.joined(1, 0, 1, "A", 0, 0));
         written("S ^A=$J(1,250)", DiskTest.joined(1, 0, 1, "A", 250, " ".repeat(249) + "1", 0));
         written("S ^ABCDEFGH(1,22,`x`,-.5,`1.0`,6)=1", DiskTest.joined(1, 6, 8, "ABCDEFGH", 1, "1", 2, "22", 1, "x", 3, "-.5", 3, "1.0", 1, "6", 1, "1", 0));
+        for (int n = 1; n <= 8; n++) {
+            String name = "ABCDEFGH".substring(0, n);
+            written("S ^" + name + "(5)=7 K ^" + name, DiskTest.joined(DiskTest.set("7", name, "5"), 0, DiskTest.kill(name), 0));
+            House g = new House();
+            g.save(name, " Q");
+            g.house.sync();
+            DiskTest.disk("a routine " + name, g, DiskTest.sync(1, DiskTest.joined(DiskTest.routine(name, " Q"), 0)));
+        }
         written("S ^%($J(1,60))=$C(0,255)", DiskTest.joined(1, 1, 1, "%", 60, " ".repeat(59) + "1", 2, "\0\u00ff", 0));
         written("S ^A(1)=1 K ^A", DiskTest.joined(1, 1, 1, "A", 1, "1", 1, "1", 0, 2, 0, 1, "A", 0));
         written("S ^A(1,2)=1 K ^A(1),^A", DiskTest.joined(1, 2, 1, "A", 1, "1", 1, "2", 1, "1", 0, 2, 1, 1, "A", 1, "1", 0));
@@ -336,6 +344,12 @@ public final class BoundaryDiskTest extends Boundary {
         says("one record at least");
         again(0, 0);
         again(0, 0, one("A"));
+        says("A RECORD: 1, 2 or 3 ..");
+        for (int type : new int[] {0, 4, 5, 128, 255}) {
+            again(0, type, DiskTest.node("A"), 0, 0);
+            again(0, type, DiskTest.node("A"), 0);
+            again(1, one("A"), type, DiskTest.node("A"), 1, "1", 0);
+        }
         says("each as told above, with NAMES and nodes that can be");
         again(1, DiskTest.set("1", "ABCDEFGH"), 0);
         again(0, DiskTest.set("1", "ABCDEFGHI"), 0);
@@ -378,6 +392,8 @@ public final class BoundaryDiskTest extends Boundary {
         again(16, sixteen.toByteArray());
         again(16, sixteen.toByteArray(), DiskTest.routine("X", ""), 0, one("A"));
         again(18, sixteen.toByteArray(), DiskTest.routine("R15", " W 1"), 0, one("A"));
+        for (int i : new int[] {0, 1, 8, 14}) again(18, sixteen.toByteArray(), DiskTest.routine("R" + i, " W 1"), 0, one("A"));
+        again(17, sixteen.toByteArray(), DiskTest.routine("R0", " W 1"), DiskTest.routine("R15", " W 1"), DiskTest.set("1", "A"), 0, DiskTest.routine("R0", ""), DiskTest.routine("R16", ""), 0);
         House h = DiskTest.from(16, DiskTest.joined(sixteen.toByteArray(), DiskTest.set("1", "A"), DiskTest.routine("X", ""), 0, one("B")));
         due("all of that unit", h.house.count(0) * 10 + h.house.count(1), 160);
         says("a value for which there is no room is left out");
@@ -426,6 +442,29 @@ public final class BoundaryDiskTest extends Boundary {
         due("start", h.house.start(), 3 + 4 + 2);
         due("globals", h.look(0, "^A", 0) + h.look(0, "^B", 4) + h.look(0, "^C", 4) + h.look(0, "^D", 4) + h.house.count(1), "30001");
         due("routines", h.run("D ^R,^S") + h.house.count(0), "322");
+        says("(routines that were not written are none)");
+        h = house("S ^A=1");
+        h.save("R", " W 1");
+        turns(h, 9);
+        h.house.cut(0, 0);
+        h.house.sync();
+        h.house.start();
+        due("routines", h.house.count(0), 0);
+        due("no such one", h.run("W $T(^R) D ^R"), "{,M13,}");
+        says("each process begins anew");
+        h = house("I 1 W !!,`abc` S A=1,A(1)=2 N A S A=3 TS (A) TRE:$TR<1  S $EC=`,a,` ", "W 1/0", "S ^A=1,B=1,$ET=`R X` F I=1 F J=1 S (X,Y,Z)=$$F^R W 1/0", "L A R X", "S (A,B,C)=1 R X");
+        turns(h, 60);
+        h.house.cut(0, 0);
+        h.house.sync();
+        h.house.start();
+        for (int p = 0; p < 5; p++) {
+            due("process", h.process(m("W $T,$X,$Y,$TL,$TR,`[`,$EC,$ET,`]`,$D(A),$D(B) S A=1,(X,Y)=2 R X")), p);
+            for (int what = 0; what < 12; what++) due("state " + what, h.house.state(p, what), what == 1 ? 1 : 0);
+            due("nothing is written", h.written(p) + h.code(p), "");
+        }
+        turns(h, 60);
+        for (int p = 0; p < 5; p++) due("process " + p, h.written(p) + h.house.state(p, 11), "01000[]003");
+        due("values", h.house.count(2), 15);
         says("STATE when it is not DOWN");
         due("start", h.house.start(), -3);
         says("There are no processes, no locks, nothing waits, nothing is set for power; numbers of processes begin anew");

@@ -84,12 +84,14 @@ public final class BoundaryExpressionTest extends Boundary {
             "$J(``,250)?250P", "1", "$J(``,250)?251.P", "0", "``?.2A", "1", "`aa`?.2A", "1", "`aaa`?.2A", "0", "``?.A", "1", "$J(``,250)?.P", "1", "`a1`?.A", "0", "``?0.0A", "1", "``?3.2A", "0", "`aa`?3.1A", "0", "``?1.A", "0", "``?1A", "0", "$J(``,250)?999P", "0", "$J(``,250)?.999P", "1");
         says("its STRING");
         values("`abab`?2`ab`", "1", "`aba`?2`ab`", "0", "``?.`ab`", "1", "``?0`ab`", "1", "``?1``", "1", "``?999``", "1", "`a`?1``", "0", "`x``y`?1`x``y`", "1", "`ab`?1`a`1`b`", "1", "`aaa`?1.2`a`", "0", "``?3.2``", "0", "$J(``,250)?1`" + " ".repeat(225) + "`", "0",
-            "$J(``,120)?1`" + " ".repeat(120) + "`", "1", "$J(``,240)?2`" + " ".repeat(120) + "`", "1");
+            "$J(``,120)?1`" + " ".repeat(120) + "`", "1", "$J(``,240)?2`" + " ".repeat(120) + "`", "1", "$J(``,120)?2`" + " ".repeat(120) + "`", "0", "$J(``,64)?1`" + " ".repeat(64) + "`", "1", "$J(``,128)?1`" + " ".repeat(64) + "`", "0", "$J(``,128)?2`" + " ".repeat(64) + "`", "1", "$J(``,192)?3`" + " ".repeat(64) + "`", "1", "$J(``,192)?2`" + " ".repeat(64) + "`", "0",
+            "$J(``,128)?1`" + " ".repeat(128) + "`", "1", "$J(``,192)?1`" + " ".repeat(128) + "`", "0", "$J(``,192)?1`" + " ".repeat(192) + "`", "1", "$J(``,65)?1`" + " ".repeat(65) + "`", "1", "$J(``,63)?1`" + " ".repeat(63) + "`", "1", "$J(``,126)?2`" + " ".repeat(63) + "`", "1", "$J(``,130)?2`" + " ".repeat(65) + "`", "1", "$J(``,129)?2`" + " ".repeat(65) + "`", "0");
         says("or what one of its choices fits");
         values("`a1`?2(1A,1N)", "1", "`a-`?2(1A,1N)", "0", "``?0(1A)", "1", "``?.(1A)", "1", "``?1(1A,.N)", "1", "`ab1`?1(2A,1N)1N", "1", "`abc`?2(1A,2A)", "1", "`a`?2(1A,2A)", "0", "`abcd`?2(1A,2A)", "1", "`abcde`?2(1A,2A)", "0", "`aab`?.(1`aa`,1`ab`)", "0", "`aaab`?.(1`aa`,1`ab`)", "1",
             "``?999(.A)", "1", "`a`?999(.A)", "1", "``?3.2(.A)", "0", "`aa`?1.1(1A)", "0", "$J(``,250)?.(2P,3P)", "1", "$J(``,250)?125(2P)", "1", "$J(``,249)?125(2P)", "0", "$J(``,250)?249(1P,2P)", "1");
         says("a row of pieces, one for each part in order");
-        values("`a1`?1A1N", "1", "`1a`?1A1N", "0", "`aaa1`?.A1A1N", "1", "`aab`?.A1`b`", "1", "`abb`?.A1`b`1`b`", "1", "``?.A.N", "1");
+        values("`a1`?1A1N", "1", "`1a`?1A1N", "0", "`aa`?1A1N", "0", "`ac`?1A1`b`", "0", "`bb`?1`b`1N", "0", "`ab`?1`a`1`c`", "0", "`aab`?2A1`c`", "0", "$J(`a`,250)?249P1A", "1", "$J(`a`,250)?249P1N", "0", "$J(`a`,250)?249P1`a`", "1", "$J(`a`,250)?249P1`b`", "0", "$J(`a`,250)?250P", "0", "$J(`a`,200)?199P.A", "1", "$J(`a`,200)?199P.N", "0", "$J(``,250)?250P3.2``", "0", "$J(``,250)?250P2``", "1",
+            "$J(`a`,250)?.(1P,1A).(1N)", "1", "$J(`a`,250)?.(1P)1(1N,1A)", "1", "$J(`a`,250)?.(1P)1(1N,1C)", "0", "$J(`a`,250)?.P.(1A)", "1", "$J(`a`,250)?249.250P1(1A)", "1", "$J(`a`,250)?.P1.2(1`a`,1N)", "1", "$J(`a`,250)?.P2.(1`a`,1N)", "0", "`a`?.(1A)1(1N)", "0", "`ab`?1(1A)1(1N)", "0", "`a1`?1(1A,1N)1(1N)", "1", "`aaa1`?.A1A1N", "1", "`aab`?.A1`b`", "1", "`abb`?.A1`b`1`b`", "1", "``?.A.N", "1");
         says("The text behind ? @ is a pattern, else error Z3");
         runs("S P=`1A` W `a`?@P,`1`?@P,`a`'?@P", "100", "W `a`?@`1A`", "1", "S P=`.(1A,1N)` W `a1`?@P", "1");
         for (String bad : new String[] {"``", "`A`", "`1`", "`1A `", "` 1A`", "`1A,`", "`1(1A`", "`@P`", "`1Q`", "`1234A`", "`1A`_$C(10)", "`1A_1`"}) runs("S P=" + bad + " W `a`?@P", "{,Z3,}");
@@ -100,7 +102,8 @@ public final class BoundaryExpressionTest extends Boundary {
         runs("S A=`` W `[`,A,`]`", "[]", "W A", "{,M6,}", "W A(1)", "{,M6,}", "S A(1)=1 W A", "{,M6,}", "S A=1 W A(1)", "{,M6,}", "W ^A", "{,M7,}", "W ^A(1)", "{,M7,}", "S ^A(1)=1 W ^A", "{,M7,}", "S ^A=1 W ^(1)", "{,M1,}", "S ^A(1)=1 W ^(2)", "{,M7,}", "S X=`A` W @X,1", "{,M6,}",
             "S X=`^A` W 1_@X", "{,M7,}", "S A=1 N A W A", "{,M6,}");
         says("$GET: the value; else the second one (empty without; worked out only then)");
-        runs("S A=5 W $G(A),$G(A,6),$G(B),`|`,$G(B,6),$G(A,1/0)", "55|65", "W $G(B,1/0)", "{,M9,}", "S A=`` W `[`,$G(A,1),`]`", "[]", "S A(1)=1 W $G(A,7)", "7", "W $G(^A,$G(^B,`x`))", "x", "W $L($G(A,$J(1,250)))", "250");
+        runs("S ^A(2)=5,A(2)=6 W 1_^A(2),2_A(2),3_$G(^A(2),7),4_$G(^A(3),7)", "15263547", "S A(1)=1,A(2)=1 W 1_$O(A(0),1),2_$NA(A(1),1),3_$D(A(1)),4_$Q(A(1)),5_$O(A(1)),6_$O(A(9),-1),7_$QS(`A(8)`,1)", "112A(1)314A(2)526278",
+            "S A=5 W $G(A),$G(A,6),$G(B),`|`,$G(B,6),$G(A,1/0)", "55|65", "W $G(B,1/0)", "{,M9,}", "S A=`` W `[`,$G(A,1),`]`", "[]", "S A(1)=1 W $G(A,7)", "7", "W $G(^A,$G(^B,`x`))", "x", "W $L($G(A,$J(1,250)))", "250");
         says("$DATA: DATA");
         runs("S A(1)=1,B=1,C=1,C(1)=1 W $D(A),`,`,$D(B),`,`,$D(C),`,`,$D(D),`,`,$D(A(1)),`,`,$D(A(1,1))", "10,1,11,0,1,0");
     }
@@ -160,6 +163,7 @@ public final class BoundaryExpressionTest extends Boundary {
         says("A whole number is wanted of e below: it is cut toward 0, and to -2000000000 .. 2000000000");
         values("$E(`abc`,1.9)", "a", "$E(`abc`,-.9,1.9)", "a", "$E(`abc`,`2x`)", "b", "$E(`abc`,-3E9,3E9)", "abc", "$E(`abc`,1E29)", "", "$P(`a,b`,`,`,1.9)", "a", "$P(`a,b`,`,`,-3E9,3E9)", "a,b", "$A(`a`,3E9)", "-1", "$A(`a`,-3E9)", "-1", "$C(65.9)", "A", "$C(-.9)", "\0", "$C(3E9,-3E9,1E29)", "",
             "$F(`ab`,`b`,-3E9)", "3", "$F(`ab`,`b`,3E9)", "0", "$J(1,3E9)", "{,M75,}", "$J(1,-3E9)", "1", "$J(1.25,0,1.9)", "1.3", "$NA(A(1),.9)", "A", "$NA(A(1),-.9)", "A", "$NA(A(1),3E9)", "A(1)", "$QS(`A(1)`,1.9)", "1", "$QS(`A(1)`,3E9)", "", "$QS(`A(1)`,-3E9)", "", "$R(1.9)", "0", "$R(-3E9)", "{,M3,}");
+        values("$E(`abc`,1,11E20)", "abc", "$E(`abc`,1,97E25)", "abc", "$E(`abc`,1,999999999999999999)", "abc", "$E(`abc`,1E-20)", "", "$E(`abc`,1E-19)", "", "$E(`abc`,-1E-30,2)", "ab", "$E(`abc`,.999999999999999999)", "", "$E(`abc`,1.99999999999999999)", "a");
         long z = 0, want = -1;
         int draws = 0;
         while (want < 2000000000L) {
@@ -168,13 +172,17 @@ public final class BoundaryExpressionTest extends Boundary {
             draws++;
         }
         run("F I=1:1:" + draws + " S X=$R(3E9) I I=" + draws + " W X", Long.toString(want % 2000000000L));
-        House h = house("H 3E9 W 1", "H 1E29 W 1", "H 2000000000 W 1", "L B,A:3E9 W 1");
+        House h = house("H 3E9 W 1", "H 1E29 W 1", "H 2000000000 W 1", "H 1999999999 W 1", "H 15E8 W 1", "H 1000000001 W 1");
         turns(h, 20);
-        h.house.time(1999999999);
-        due("waits", turns(h, 20), 0);
-        h.house.time(2000000000);
-        turns(h, 50);
-        due("on", h.written(0) + h.written(1) + h.written(2), "111");
+        int[] seconds = {1000000000, 1000000001, 1499999999, 1500000000, 1999999998, 1999999999, 2000000000};
+        String[] on = {"", "1", "1", "11", "11", "111", "111111"};
+        for (int i = 0; i < seconds.length; i++) {
+            h.house.time(seconds[i]);
+            turns(h, 60);
+            StringBuilder written = new StringBuilder();
+            for (int p = 0; p < 6; p++) written.append(h.written(p));
+            due("on at " + seconds[i], written.toString(), on[i]);
+        }
         runs("W ?3E9,$X", "0", "W *3E9,$X", "0", "D +3E9^R", "{,M13,}", "W $T(+3E9^R)", "", "D +-3E9^R", "{,Z4,}");
         run("A W 1\nB W 2", "D +1.9^R D A+.9^R D A+-.9^R", "121212");
         says("it is read, M92, before anything else is done with arguments");
@@ -238,7 +246,7 @@ public final class BoundaryExpressionTest extends Boundary {
         says("$NAME(ref,n): with n: that of its first n subscripts (below 0: M92)");
         values("$NA(A)", "A", "$NA(^A)", "^A", "$NA(A(1))", "A(1)", "$NA(A(1,2),0)", "A", "$NA(A(1,2),1)", "A(1)", "$NA(A(1,2),2)", "A(1,2)", "$NA(A(1,2),3)", "A(1,2)", "$NA(A(1,2),-1)", "{,M92,}", "$NA(^A(1),-1)", "{,M92,}", "$NA(A,0)", "A", "$NA(A,5)", "A");
         says("CANONIC ones as they are, others in \" with each \" twice");
-        values("$NA(A(1,`1.0`,`x`,-.5,``` ```))", "A(1,\"1.0\",\"x\",-.5,\"\"\" \"\"\")", "$NA(A(1E3,007))", "A(1000,7)", "$NA(A(`````))".replace("`````", "````"), "A(\"\"\"\")", "$L($NA(A($TR($J(``,60),` `,````))))", "125");
+        values("$NA(A(1,`1.0`,`x`,-.5,``` ```))", "A(1,\"1.0\",\"x\",-.5,\"\"\" \"\"\")", "$NA(A(1E3,007))", "A(1000,7)", "$NA(A(````))", "A(\"\"\"\")", "$L($NA(A($TR($J(``,60),` `,````))))", "125");
         says("$ORDER(ref,d), d 1 or -1 (else M92)");
         runs("S A(1)=1,A(3)=1 W $O(A(1)),$O(A(1),1),$O(A(3),-1),$O(A(1),1.9),$O(A(3),-1.9)", "33131", "W $O(A(1),0)", "{,M92,}", "W $O(A(1),2)", "{,M92,}", "W $O(A(1),-2)", "{,M92,}", "W $O(A(1),``)", "{,M92,}", "W $O(A,2)", "{,M92,}", "W $O(^A,0)", "{,M92,}", "W $O(A(``,1),2)", "{,M92,}");
         says("the next subscript (before it, for -1) at this last place, below the same ones, with DATA; empty if none");
@@ -250,9 +258,8 @@ public final class BoundaryExpressionTest extends Boundary {
         runs("S %=1,A=1,AA=1,B(1)=1,Z=1,a=1,b=1 K b W $O(%),$O(A),$O(AA),$O(B),$O(Z),$O(a),`|`,$O(b,-1),$O(a,-1),$O(B,-1),$O(A,-1),$O(%,-1),`|`,$O(C),$O(C,-1)", "AAABZa|aZAA%|ZB", "S ^%=1,^A(1)=1,^B=1 W $O(^%),$O(^A),$O(^B),`|`,$O(^C,-1),$O(^B,-1),$O(^%,-1)", "^A^B|^B^A",
             "S A=1 W $O(^A),$O(^%)", "", "S ^B=1 W $O(A)", "", "S B=1 N B W $O(A)", "");
         says("$QLENGTH(s), $QSUBSCRIPT(s,n): s is a text as of $NAME (else Z3): how many subscripts; subscript n, 0 the name (with ^), empty for others (-1, too)");
-        values("$QL(`A`)", "0", "$QL(`^A`)", "0", "$QL(`A(1)`)", "1", "$QL(`A(1,2,3,4,5,6)`)", "6", "$QS(`A(1)`,0)", "A", "$QS(`^A(1)`,0)", "^A", "$QS(`A(1)`,1)", "1", "$QS(`A(1)`,2)", "", "$QS(`A(1)`,-1)", "", "$QS(`A(1)`,-2)", "", "$QS(`A`,1)", "", "$QS(`A(1,2,3,4,5,6)`,6)", "6", "$QS(`A(1,2,3,4,5,6)`,7)", "",
-            "$QS(`A(````a`````````)`,1)".replace("`````````", "````````"), "{,Z3,}");
-        runs("S X=$NA(A(`a``b`,1)) W $QL(X),$QS(X,1),$QS(X,2)", "2a\"b1", "S X=$NA(^A($J(1,60),$J(1,35))) W $QL(X),$L($QS(X,1)),$L($QS(X,2))", "26035", "S X=`A(```_$J(1,60)_```,```_$J(1,36)_```)` W $QL(X)", "{,Z3,}", "S X=`A(```_$J(1,61)_```)` W $QL(X)", "{,Z3,}");
+        values("$QL(`A`)", "0", "$QL(`^A`)", "0", "$QL(`A(1)`)", "1", "$QL(`A(1,2,3,4,5,6)`)", "6", "$QS(`A(1)`,0)", "A", "$QS(`^A(1)`,0)", "^A", "$QS(`A(1)`,1)", "1", "$QS(`A(1)`,2)", "", "$QS(`A(1)`,-1)", "", "$QS(`A(1)`,-2)", "", "$QS(`A`,1)", "", "$QS(`A(1,2,3,4,5,6)`,6)", "6", "$QS(`A(1,2,3,4,5,6)`,7)", "");
+        runs("S X=$NA(A(`a``b`,1)) W $QL(X),$QS(X,1),$QS(X,2)", "2a\"b1", "S X=$NA(^A($J(1,60),$J(1,35))) W $QL(X),$L($QS(X,1)),$L($QS(X,2))", "26035", "S X=`A(```_$J(1,60)_```,```_$J(1,36)_```)` W $QL(X)", "{,Z3,}", "S X=`A(```_$J(1,61)_```)` W $QL(X)", "{,Z3,}", "W $QL(`^ABCDEFGH(1)`),$QS(`^ABCDEFGH(1)`,0)", "1^ABCDEFGH", "W $QL(`^ABCDEFGHI(1)`)", "{,Z3,}", "W $QL(`A;1)`)", "{,Z3,}", "W $QL(`A,1)`)", "{,Z3,}");
         for (String bad : new String[] {"", "1", "A(", "A()", "A(1", "A(1))", "A(1,)", "A(,1)", "A(1)x", "A 1", " A", "A ", "A(01)", "A(1.0)", "A(+1)", "A(1E2)", "A(``1``)", "A(``-.5``)", "A(````)", "A(x)", "A(``x)", "A(``x``y)", "A(``x``,)", "^", "^(1)", "@A", "$A", "ABCDEFGHI", "A(1,2,3,4,5,6,7)", "A(-0)", "A(1 )", "A( 1)", "A(.)"}) {
             values("$QL(`" + bad + "`)", "{,Z3,}", "$QS(`" + bad + "`,0)", "{,Z3,}");
         }
@@ -288,6 +295,7 @@ public final class BoundaryExpressionTest extends Boundary {
         says("$TEXT: the line of the entry; empty if there is none; of +0 the routine's name");
         run(r, "W $T(F^R),`|`,$T(^R),`|`,$T(+1^R),`|`,$T(+2^R),`|`,$T(F+1^R),`|`,$T(G+0^R),`|`,$T(+0^R)", "F(A) ;one|F(A) ;one|F(A) ;one| ;two| ;two|G ;three|R");
         run(r, "W `[`,$T(+4^R),$T(+5^R),$T(G+1^R),$T(G+2^R),$T(H^R),$T(H+1^R),$T(^S),$T(+1^S),$T(+0^S),$T(F^S),`]`", "[]");
+        run(r, "W 5_$T(+2^R),6_$T(G+0^R),7_$T(+0^R),8_$T(+9^R)", "5 ;two6G ;three7R8");
         says("an entry with + below 0 (of $TEXT, too)");
         run(r, "W $T(+-1^R)", "{,Z4,}");
         run(r, "W $T(G+-1^R)", "{,Z4,}");
@@ -326,7 +334,7 @@ public final class BoundaryExpressionTest extends Boundary {
     private static void extrinsics() {
         says("its value is what the QUIT that ends it gives; $TEST comes back behind it");
         run("F I 0\n Q 5", "I 1 W $$F^R,$T", "51");
-        run("F I 1\n Q 5", "I 0\n".isEmpty() ? "" : "W $$F^R,$T", "50");
+        run("F I 1\n Q 5", "W $$F^R,$T", "50");
         run("F Q ``", "W `[`,$$F^R,`]`", "[]");
         run("F Q $J(1,250)", "W $L($$F^R)", "250");
         run("F I 0 Q 1\n W 1/0", "S $ET=`S $EC=```` W $T` I 1 W $$F^R", "1");

@@ -141,6 +141,14 @@ public final class BoundaryFaceTest extends Boundary {
         due("it is that", h.run("D ^ABCDEFGH"), "4");
         due("A is the name, B the label", save(h, "AB W 5", 1), 1);
         due("it is that", h.run("D B^A"), "5");
+        says("in place of one: nothing of that stays");
+        for (String was : new String[] {"A(X) W 1\n .W 2\nB Q", "A(X) W 1 ("}) {
+            h = fresh();
+            for (int i = 0; i < 3; i++) save(h, "R" + was, 1);
+            for (int i = 0; i < 3; i++) due("save", save(h, "RA W 1 Q\n W 2", 1), 2);
+            due("no formals", h.run("D A^R D A^R(1)"), "1{,M58,}");
+            due("no label, no points", h.run("D +2^R D B^R"), "2{,M13,}");
+        }
         says("NONE (n 1 .. 8, and not more than the tape has)");
         for (int n : new int[] {0, -1, 9, 7, Integer.MIN_VALUE, Integer.MAX_VALUE}) due("save " + n, save(h, "AB W 1", n), NONE);
         due("an empty tape", save(h, "", 1), NONE);
@@ -484,9 +492,12 @@ public final class BoundaryFaceTest extends Boundary {
         for (int what : new int[] {-1, 3, Integer.MAX_VALUE}) due("what " + what, h.house.level(0, 0, what), NONE);
         for (int p : new int[] {-1, 1, Integer.MAX_VALUE}) due("process " + p, h.house.level(p, 0, 0), NONE);
         due("nothing is changed", h.result(), "");
-        says("or the text of its trap that it is in");
+        says("NONE: no level is there any more");
         h.tell(0, "");
         turns(h, 9);
+        due("one that was", h.house.level(0, 2, 0), NONE);
+        due("one that was", h.house.level(0, h.house.state(0, 1), 1), NONE);
+        says("or the text of its trap that it is in");
         due("a level's trap", h.house.level(0, 1, 0), 3);
         due("its text", h.result(), "R Y");
         due("its number", h.house.level(0, 1, 1), 1);
@@ -548,14 +559,14 @@ public final class BoundaryFaceTest extends Boundary {
         House h = house("S A=1 R X");
         turns(h, 9);
         String[] bad = {"", " ", "1", "_", "A ", " A", "A(", "A()", "A(1", "A(1))", "A(1)x", "A(1)(2)", "A(1,)", "A(,1)", "A(01)", "A(1.0)", "A(.50)", "A(-0)", "A(+1)", "A(1E2)", "A(x)", "A(`1`)", "A(`0`)", "A(`-.5`)", "A(`x)", "A(`x`y)", "A(`x``)", "A(x`)", "A(1 )", "A(1, 2)", "A(1;2)",
-            "ABCDEFGHI", "%%", "A.", "A%", "@A", "$A", "(1)", "A(1,2,3,4,5,6,7)", "A(`" + "x".repeat(61) + "`)", "A(`" + "x".repeat(60) + "`,`" + "y".repeat(36) + "`)", "A(1" + "0".repeat(30) + ")"};
+            "ABCDEFGHI", "%%", "A.", "A%", "A;1)", "A.1)", "A`x`)", "A,1)", "A1)", "@A", "$A", "(1)", "A(1,2,3,4,5,6,7)", "A(`" + "x".repeat(61) + "`)", "A(`" + "x".repeat(60) + "`,`" + "y".repeat(36) + "`)", "A(1" + "0".repeat(30) + ")"};
         for (String b : bad) {
             for (int what = 0; what < 5; what++) {
                 due("[" + b + "], " + what, h.look(0, m(b), what), "-2");
                 due("[^" + b + "], " + what, h.look(9, m("^" + b), what), "-2");
             }
         }
-        for (String right : new String[] {"A(`x``y`)", "A(`" + "x".repeat(60) + "`)", "A(`" + "x".repeat(60) + "`,`" + "y".repeat(35) + "`)", "A(1,2,3,4,5,6)", "A(1" + "0".repeat(29) + ")", "A(`1" + "0".repeat(30) + "`)", "A(-.5,0,`-0`)", "ABCDEFGH", "A(`\n`)", "A(`,`,`)`)"}) due("[" + right + "]", h.look(0, m(right), 4), "0");
+        for (String right : new String[] {"A(`x``y`)", "A(`" + "x".repeat(60) + "`)", "A(`" + "x".repeat(60) + "`,`" + "y".repeat(35) + "`)", "A(1,2,3,4,5,6)", "A(1" + "0".repeat(29) + ")", "A(`1" + "0".repeat(30) + "`)", "A(-.5,0,`-0`)", "ABCDEFGH", "ABCDEFG(1)", "%", "A(`\n`)", "A(`,`,`)`)"}) due("[" + right + "]", h.look(0, m(right), 4), "0");
         says("NONE (what; a value that is not there; for a local: no such process, or it is over). (NONE of what, of a process before BAD; of a value behind it)");
         for (int what : new int[] {-1, 5, Integer.MIN_VALUE, Integer.MAX_VALUE}) {
             due("what " + what, h.look(0, "A", what), "-1");

@@ -52,6 +52,7 @@ public final class BoundaryNumberTest extends Boundary {
         String tiny = "." + zeros(29);
         values("1E-30", tiny + "1", "-1E-30", "-" + tiny + "1", "5E-31", tiny + "1", "-5E-31", "-" + tiny + "1", "4.99999999999999999E-31", "0", "-4.99999999999999999E-31", "0",
             "1E-31", "0", "1.5E-30", tiny + "2", "1.49E-30", tiny + "1", "2.5E-30", tiny + "3", "1.4" + nines(16) + "6E-30", tiny + "2", "1.4" + nines(16) + "4E-30", tiny + "1",
+            "1E-12+5E-30", "." + zeros(11) + "1" + zeros(16) + "1", "1E-12+4E-30", "." + zeros(11) + "1", "1E-12-5E-30", "." + zeros(12) + nines(17) + "5", "-1E-12-5E-30", "-." + zeros(11) + "1" + zeros(16) + "1",
             "1E-15*5E-16", tiny + "1", "1E-15*4E-16", "0", "1E-30/2", tiny + "1", "1E-30/3", "0", "-1E-30/2", "-" + tiny + "1", "9.5E-30", "." + zeros(28) + "1");
         says("size 10^30 or more then: error M92");
         values(nines(18) + "E12", nines(18) + zeros(12), "-" + nines(18) + "E12", "-" + nines(18) + zeros(12), "1E29", "1" + zeros(29), "1E30", "{,M92,}", "-1E30", "{,M92,}",
@@ -153,6 +154,12 @@ public final class BoundaryNumberTest extends Boundary {
         runs("S A($J(1,60),$J(1,35))=1 W 1", "1", "S A($J(1,60),$J(1,36))=1", "{,Z2,}", "S ^ABCDEFGH($J(1,60),$J(1,28))=1 W 1", "1", "S ^ABCDEFGH($J(1,60),$J(1,29))=1", "{,Z2,}",
             "S A(1,2,3,4,5,$J(1,60))=1 W 1", "1", "S AB(1,22,3,4,$J(1,20),$J(1,60))=1 W 1", "1", "S AB(1,2,3,4,$J(1,22),$J(1,60))=1 W 1", "1", "S AB(1,2,3,4,$J(1,23),$J(1,60))=1 W 1", "{,Z2,}",
             "L A($J(1,60),$J(1,36))", "{,Z2,}", "L A($J(1,60),$J(1,35)) W 1", "1");
+        for (int n = 1; n <= 8; n++) {
+            String name = "ABCDEFGH".substring(0, n);
+            runs("S " + name + "($J(1,60),$J(1," + (36 - n) + "))=1 W 1", "1", "S " + name + "($J(1,60),$J(1," + (37 - n) + "))=1", "{,Z2,}", "S ^" + name + "($J(1,60),$J(1," + (36 - n) + "))=1 W 1", "1", "S ^" + name + "($J(1,60),$J(1," + (37 - n) + "))=1", "{,Z2,}");
+        }
+        runs("S ^A($J(1,60),1)=1,^($J(1,35))=2 W 1", "1", "S ^A($J(1,60),1)=1,^($J(1,36))=2", "{,Z2,}", "S ^A($J(1,60),1)=1,^($J(1,50))=2", "{,Z2,}", "S ^A($J(1,60),1)=1,^($J(1,60),1)=2", "{,Z2,}", "S ^A($J(1,60),1)=1,^($J(1,60),$J(1,60))=2", "{,Z2,}",
+            "S A($J(1,60))=1 M B($J(1,35))=A W 1", "1", "S A($J(1,60))=1 M B($J(1,36))=A", "{,Z2,}", "S A($J(1,60))=1 M B($J(1,60))=A", "{,Z2,}", "S A($J(1,60),$J(1,20))=1 M ^B($J(1,60))=A", "{,Z2,}", "S X=`A(```_$J(1,60)_```)` S @X@($J(1,60))=1", "{,Z2,}");
         says("What has an empty subscript, one too long, too many or too great a size is error Z2 when it is met, that is used");
         for (String bad : new String[] {"A(``)", "A(1,``)", "A(``,1)", "A($J(1,61))", "A($J(1,60),$J(1,36))", "@`A(1,2,3,4,5,6)`@(7)", "^A(``)", "^A(1,``)", "^A(``,1)", "^A($J(1,61))", "^A($J(1,60),$J(1,36))", "@`^A(1,2,3,4,5,6)`@(7)"}) {
             for (String use : new String[] {"W *", "S X=$D(*)", "S X=$G(*)", "S X=$G(*,1)", "S X=$NA(*)", "S X=$NA(*,1)", "S *=1", "S (X,*)=1", "S $P(*,1)=1", "S $E(*,1)=1", "K *", "L *", "L +*", "L -*", "L (X,*)", "M *=X", "M X=*"}) {
@@ -174,7 +181,7 @@ public final class BoundaryNumberTest extends Boundary {
     private static void data() {
         says("DATA of a node: 1 if it has a value, and 10 more if one below it (with the same subscripts and more) has");
         runs("S A(1,2)=5,A(3)=``,A(3,1)=2,A(12)=7 W $D(A),`,`,$D(A(1)),`,`,$D(A(1,2)),`,`,$D(A(3)),`,`,$D(A(3,1)),`,`,$D(A(2)),`,`,$D(A(12)),`,`,$D(A(1,2,3))", "10,10,1,11,1,0,1,0",
-            "S ^A(1,2)=5,^A(12)=1 K ^A(1,2) W $D(^A(1)),$D(^A)", "010", "S B=1 W $D(A),$D(C)", "00");
+            "S ^A(1,2)=5,^A(12)=1 K ^A(1,2) W $D(^A(1)),$D(^A)", "010", "S B=1 W $D(A),$D(C)", "00", "S A(`a`,1)=1,A(`ab`)=1,A(`a`,`z`)=1 W $O(A(``)),$O(A(`a`)),$O(A(`ab`),-1),$D(A(`a`)),$Q(A(`a`,`z`))", "aaba10A(\"ab\")", "S ^A(`a`,9)=1,^A(`a1`)=1,^A(`a`)=1 W $Q(^A),$Q(^A(`a`)),$Q(^A(`a`,9))", "^A(\"a\")^A(\"a\",9)^A(\"a1\")");
         says("a node before those below it, else by the first subscript that differs");
         run("S A(2)=1,A(1,9)=1,A(1)=1,A(1,10,1)=1,A(1,10)=1,A=1,X=`A` W X F  S X=$Q(@X) Q:X=``  W ` `,X", "A A(1) A(1,9) A(1,10) A(1,10,1) A(2)");
     }
@@ -194,7 +201,7 @@ public final class BoundaryNumberTest extends Boundary {
         h.house.halt(0);
         due("count", h.house.count(1), 500);
         says("500 of locals (of all processes");
-        runs("F I=1:1:499 S A(I)=1 I I=499 W 1 S A(1)=2 S B=1", "1{,Z1,}", "F I=1:1:498 S A(I)=1 I I=498 S B=1 W B", "1");
+        runs("F I=1:1:499 S A(I)=1 I I=499 W 1 S A(1)=2 W A(1) S B=1", "12{,Z1,}", "F I=1:1:498 S A(I)=1 I I=498 S B=1 W B", "1");
         h = house("F I=1:1:298 S A(I)=1 I I=298 R X");
         turns(h, 1200);
         due("count", h.house.count(2), 299);

@@ -7,6 +7,7 @@ public final class BoundaryProcessTest extends Boundary {
         waiting();
         barred();
         targets();
+        reused();
         sixty();
         levels();
         copies();
@@ -181,7 +182,7 @@ public final class BoundaryProcessTest extends Boundary {
         says("A node is BARRED for a process if another one holds it, one above or one below it (of the same name; ^ too)");
         String[] yes = {"A", "A", "A", "A(1)", "A(1)", "A", "A(1)", "A(1)", "A(1,2)", "A", "A", "A(1,2,3,4,5,6)", "A(1)", "A(1,2)", "^A", "^A", "^A(1)", "^A", "^A", "^A(`x`)", "(A,B)", "B(1)", "A", "(B,A)", "A(`x`)", "A(`x`,`y`)"};
         for (int i = 0; i < yes.length; i += 2) bars(m(yes[i]), m(yes[i + 1]), true);
-        String[] no = {"A", "B", "A", "AA", "AA", "A", "A", "a", "A(1)", "A(2)", "A(1)", "A(12)", "A(12)", "A(1)", "A(1,2)", "A(1,3)", "A(`1.0`)", "A(1)", "^A(1)", "^A(2)", "(A,B)", "C"};
+        String[] no = {"A", "B", "A", "AA", "AA", "A", "A", "a", "A(1)", "A(2)", "A(1)", "A(12)", "A(12)", "A(1)", "A(1,2)", "A(1,3)", "A(`1.0`)", "A(1)", "^A(1)", "^A(2)", "(A,B)", "C", "A", "B(1)", "A(1)", "B", "^A", "^B(1)", "^A(1)", "^B", "A(1)", "B(1,2)"};
         for (int i = 0; i < no.length; i += 2) bars(m(no[i]), m(no[i + 1]), false);
         says("(those with ^ and those without are others)");
         bars("A", "^A", false);
@@ -231,7 +232,9 @@ public final class BoundaryProcessTest extends Boundary {
         held("L A,-A(1),-B,-^A R X", "0A1 ");
         held("L A L -A,-A R X", "");
         runs("L -A:0 W $T", "1", "L -A W $T", "0", "L A:0 W $T", "1", "L A W $T", "0", "I 1 L A W $T", "1");
-        House h = house("L A R X", "L -A:9 W $T R X");
+        House h = house("L A R X");
+        turns(h, 9);
+        h.process("L -A:9 W $T R X");
         turns(h, 20);
         due("another's", locks(h) + h.written(1), "0A1 1");
         says("A target's are taken when none of them is BARRED, all at once; else it waits");
@@ -257,6 +260,12 @@ public final class BoundaryProcessTest extends Boundary {
             h.house.time(Math.max(n, 0));
             turns(h, 9);
             due("then", h.written(1) + locks(h), "00A1 ");
+        }
+        for (int n = -1; n <= 0; n++) {
+            h = house("L A R X");
+            turns(h, 9);
+            h.process("L A:" + n + ",+A:" + n + " W $T");
+            due("not at all: turns of " + n, turns(h, 40), 2);
         }
         h = house("L A R X");
         turns(h, 9);
@@ -313,12 +322,54 @@ public final class BoundaryProcessTest extends Boundary {
         h.tell(0, "");
         turns(h, 20);
         due("over", h.house.count(5), 0);
+        h = house("F I=1:1:59 L +A(I) I I=59 S $ET=`R X` L +(D,E)");
+        turns(h, 800);
+        due("two at once", h.house.count(5) + h.code(0), "59,Z1,");
+        h = house("F I=1:1:59 L +A(I) I I=59 S $ET=`R X` L +(D,D),+(^D,D)");
+        turns(h, 800);
+        due("others", h.house.count(5) + h.code(0), "60,Z1,");
         h = house("F I=1:1:60 L +A(I) I I=60 S $ET=`R X` L +B");
         turns(h, 800);
         due("61", h.house.count(5) + h.code(0), "60,Z1,");
         h = house("F I=1:1:59 L +A(I) I I=59 L B R X");
         turns(h, 800);
         due("first all of it go", locks(h), "0B1 ");
+    }
+
+    /** What processes had when they were halted is not what others have behind them. */
+    private static void reused() {
+        says("There are 24 processes, 6 LIVING at most: each begins anew");
+        String r = m("F() R X Q X\nH(N) R:N=0 X S Y=`H(`_(N-1)_`)` D @Y Q\nI " + repeated("F I=1", 20, " ") + " R X");
+        String twenty = repeated("X", 20, ",");
+        String[] texts = {"S (" + twenty + ")=$$F^R", "D H^R(10)", "D I^R", "S ^A(1)=1 R X", "TS (A,B) S ^A(2)=1,^B=2 TS  R X", "I 1 W !!,1 L A S $ET=1,A=1 R X", "S X=1_(2_(3_(4_(5_(6_(7_(8_(9_(1_(2_$$F^R))))))))))", "N A,B,C,D,E,F,G,H,I,J X `N A,B,C,D,E,F,G,H,I,J X ``N A,B,C,D,E,F,G,H,I,J R X```"};
+        for (String text : texts) {
+            House h = new House();
+            h.save("R", r);
+            for (int i = 0; i < 22; i++) {
+                due("process", h.process(m(text)), i);
+                turns(h, 60);
+                due(text + " waits, time " + i, h.house.state(i, 0), 3);
+                h.house.halt(i);
+            }
+            due("behind " + text, done(h, "W $TL,$TR,$T,$X,$ST,$EC,$ET,$D(A),$D(X) S (" + twenty + ")=1_(2_(3_4)) W 5 W ^(1)"), "00030005{,M1,}");
+            due("nothing of them", h.house.count(2) * 100 + h.house.count(5) * 10 + h.house.count(1), text.contains("^A(1)") ? 1 : 0);
+        }
+        says("till the level is over: another process's turn in between");
+        House h = house("S A=1,B=2 R X", "S A=3 R X");
+        turns(h, 30);
+        due("each has its own", h.look(0, "A", 0) + h.look(1, "A", 0) + h.look(0, "B", 0) + h.look(1, "B", 4) + h.look(0, "A", 1) + h.look(1, "A", 1) + h.look(0, "B", 2) + h.look(1, "B", 2), "1320BAA");
+        says("A node is BARRED: only those that are told");
+        h = house("L A R X", "R Y L B R X");
+        h.save("R", "F() L +B:9 Q $T");
+        turns(h, 20);
+        h.tell(1, "");
+        turns(h, 20);
+        h.process("S A=$$F^R W A");
+        turns(h, 20);
+        due("it waits for B", h.house.state(2, 0), 1);
+        h.house.halt(1);
+        turns(h, 20);
+        due("A is no LOCK of it", h.written(2), "1");
     }
 
     private static void levels() {
@@ -422,6 +473,12 @@ public final class BoundaryProcessTest extends Boundary {
         run("A TS () W $TR,$D(^A) S ^A=1 D B W 9 TC  Q\nB D C\n Q\nC TRE:$TR<1  Q", "D ^R", "00109");
         run("A TS () W $TR F I=1:1:3 W I TRE:I=2&($TR<1)  I I=3 TC", "D ^R W $TL", "0121123" + "0");
         run("A F I=1:1:2 TS () W I,$TR TRE:$TR<1  TC", "D ^R", "10112021");
+        run("A TS () W `a` F I=1:1:3 W I TRE:I=2&($TR<1)  Q:$TR\n W 5", "D ^R", "a12a15");
+        run("A W 1\n TS ()\n W $TR TRE:$TR<1\n W 3", "D ^R", "1013");
+        run("A TS () S X=1_$$F W $TR TC  Q\nF() TRE:$TR<70  Q 5", "D ^R", "70");
+        run("A TS () S (X,Y,Z)=$$F W $TR TC  Q\nF() TRE:$TR<50  Q 5", "D ^R", "50");
+        run("A TS () F I=1 F J=1 F K=1 TRE:$TR<50  W $TR", "D ^R", "50");
+        run("A TS () D @`B` W $TR TC  Q\nB TRE:$TR<50  Q", "D ^R", "50");
         says("$TLEVEL is 0, $TRESTART 1 more; it goes on with its TSTART as a command that begins");
         runs("TS () TS  W $TL,$TR TRE:$TR<2", "202122", "W 1 TS:$TR<1 () W $TL TRE:$TL", "110", "TS () W 1 TRE:$TR<1  TC  W $TL,$TR", "1100");
         House h = house("TS () TRE");
@@ -451,6 +508,19 @@ public final class BoundaryProcessTest extends Boundary {
         says("of the names (* all that have DATA) the values are kept");
         runs("S A=1,A(1)=2,B=3 TS (A) W A,A(1),B,` ` S A=5,A(1)=6,A(2)=7,B=8 TRE:$TR<1  W $D(A(2))", "123 128 1", "S A=1,B=2 TS * W A,B,$D(C),` ` S A=5 K B S C=7 TRE:$TR<1", "120 121 ", "S A=1 TS () W A S A=2 TRE:$TR<1", "12", "TS (A) W $D(A) S A=1 TRE:$TR<1", "00", "S A=1 TS (A) W $D(A) K A TRE:$TR<1", "11",
             "S A=1 TS (B) W A S A=2 TRE:$TR<1", "12", "S A=1 TS (A,A) W A S A=2 TRE:$TR<1", "11");
+        runs("S A=1,A(1)=2,X=$QS(`B(5)`,1) TS (A) W A,A(1) S A=5 K A(1) S A(7)=1,X=$QS(`B(5)`,1) TRE:$TR<1  W $D(A(7))", "12121", "S A=1,X=$D(B(3)) TS (A) W A,$D(A(3)) S A(3)=5,X=$D(B(3)) TRE:$TR<1  W $O(A(``))", "10103");
+        House many = house("S A=1 TS (A) S A=2 TRE");
+        turns(many, 16000);
+        due("however often", many.house.state(0, 0) + many.code(0) + (many.house.count(8) > 5000 ? 1 : 0), "01");
+        many = house("S A=1 TS (A) TC  R X");
+        turns(many, 20);
+        many.process("S B=2,C=3 R X");
+        turns(many, 20);
+        many.house.halt(0);
+        due("another's are its own", many.look(1, "B", 0) + many.look(1, "C", 0) + many.house.count(2), "232");
+        many = house("S A=1 TS (A,A) R X");
+        turns(many, 20);
+        due("a name told twice", many.house.count(2), 2);
         says("kept names' locals have just the values that were kept (as they are NEW or not then)");
         runs("S A=1 TS (A) W $G(A,0) N A S A=2 TRE:$TR<1  W A", "112", "S A=1 X `TS (A) W $G(A,0) N A S A=2 TRE:$TR<1  W A` W A", "1121", "S A=1 TS (A) W A X `N A S A=2 TRE:$TR<1` W A", "111");
         says("those that TSTART keeps");
@@ -486,6 +556,9 @@ public final class BoundaryProcessTest extends Boundary {
         conflict("S ^A=1 TS ", "S ^A=5", "S ^A=^A+1 TC", 0);
         conflict("TS  S ^B=1", "S ^A=5", "TC", 0);
         conflict("TS  S ^B=1,X=$D(^A)", "S ^A=5", "TC", 1);
+        conflict("TS  S X=^A", "TS  S X=^A,^B=1 TC", "TC", 0);
+        conflict("TS  S X=^B", "TS  S X=^A,^B=1 TC", "TC", 1);
+        conflict("TS  S X=^A", "TS  S X=^A TC  TS  K ^A(7) TC", "TC", 0);
         says("a CONFLICT of one that can be RESTARTED");
         House h = house("TS () W $G(^A,0),$TR S ^A=$G(^A)+1 R X TC  W ` `,^A");
         turns(h, 20);

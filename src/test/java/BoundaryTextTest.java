@@ -10,6 +10,7 @@ public final class BoundaryTextTest extends Boundary {
 
     public static void main(String[] args) {
         lines();
+        late();
         labels();
         spaces();
         words();
@@ -20,7 +21,7 @@ public final class BoundaryTextTest extends Boundary {
         expressions();
         functions();
         patterns();
-        long_();
+        tooLong();
         open();
         many();
         House.report();
@@ -44,6 +45,26 @@ public final class BoundaryTextTest extends Boundary {
         faultAt("A\n" + " ;\n".repeat(99) + " W 1", 2 + 3 * 99);
         faultAt("A\n" + " ;\n".repeat(99) + "(", 2 + 3 * 99);
         faultAt("A\n" + " ;\n".repeat(97) + "(\n\n\n", 2 + 3 * 97);
+    }
+
+    /** A routine's places are told up to 3000: all that may stand at a place is done at its end, too. */
+    private static void late() {
+        says("ROUTINES are texts of at most 3000 bytes");
+        String front = (" ;" + "x".repeat(247) + "\n").repeat(10);
+        String[] pairs = {"W 1,`a`,.5", "1a.5", "S Abc=7,^Abc(1)=8 W Abc,^Abc(1),^(1)", "788", "S @`Abc`=6 W Abc", "6", "W `a1`?1A1N,`a1`?2N,`b`?@`1A`", "101", "D Sub^R,Sub,Sub+1", "subsubmore", "W $$Val^R(5,.Abc),$$Val(6)", "56", "S (A,B,Abc)=1 K (A,Abc) W $D(A),$D(B),$D(Abc)", "101",
+            "S (A,B)=1 X `N (A) W $D(A),$D(B)` N (A) W $D(A),$D(B)", "1010", "S A=1 TS (B,A) W A S A=2 TRE:$TR<1  W A", "112", "F Iij=1:1:3 W Iij", "123", "F Iij=1,2 W Iij", "12", "N Abc S Abc=3 W Abc", "3", "W $T(Sub),$T(Sub+1^R)", "Sub W `sub` Q W `more` Q", "S $P(Abc,`,`,2)=4 W Abc", ",4", "S $E(Abc)=9 W Abc", "9",
+            "L Abc W $S(0:1,1:2),$G(Q,5),$D(Q)", "250", "J Sub W $J", "0", "S X=`W 3` X X:1,X:0", "3", "I 1 W 2 E  W 3", "2", "D Sub:1,Sub:0 Q:1  W 9", "sub", "M Q=^Abc W $D(Q)", "0", "G Sub", "sub"};
+        for (int i = 0; i < pairs.length; i += 2) {
+            String text = m("Go " + pairs[i] + "\n Q\nSub W `sub` Q\n W `more` Q\nVal(X,Y) S Y=3 Q X\n");
+            due(pairs[i], House.of(text, "D Go^R"), m(pairs[i + 1]));
+            due(pairs[i] + " at " + front.length(), House.of(front + text, "D Go^R"), m(pairs[i + 1]));
+        }
+        // as many words as bytes can make: two of each
+        String dense = " S (A,B)=0,C=1,D=\"W 5\" X " + "A:B,".repeat(740) + "D:C";
+        due("bytes", dense.length() < 3000 ? 1 : dense.length(), 1);
+        due("a dense text", House.of(dense, "D ^R"), "5");
+        due("a dense line", House.of("", "S (A,B)=0,C=1,D=\"W 5\" X " + "A:B,".repeat(54) + "D:C"), "5");
+        due("dense arguments", House.of("A S (A,B)=0,C=1,D=\"W 5\",X=\"" + "A:B,".repeat(60) + "D:C\" X @X", "D ^R"), "5");
     }
 
     private static void labels() {
@@ -362,12 +383,12 @@ public final class BoundaryTextTest extends Boundary {
         breaks(" W @", "", ")", ",", " ");
     }
 
+    /** What may stand in the bracket of a function. */
     private static String bracket(String function) {
-        switch (function.length() > 2 ? List.of(FUNCTIONS).indexOf(function) / 2 : List.of(FUNCTIONS).indexOf(function) / 2) {
-            case 2: case 6: case 9: case 10: case 14: return "A";
+        switch (List.of(FUNCTIONS).indexOf(function) / 2) {
+            case 2: case 6: case 9: case 10: case 14: case 18: return "A";
             case 4: case 5: case 7: case 11: case 13: case 19: return "1,2";
             case 17: return "1:2";
-            case 18: return "A";
             default: return "1";
         }
     }
@@ -433,7 +454,7 @@ public final class BoundaryTextTest extends Boundary {
         breaks(" W A?@B", "@(1)", ".5");
     }
 
-    private static void long_() {
+    private static void tooLong() {
         says("a name or digits too long (each at its first byte)");
         String name = "ABCDEFGH";
         String[] fronts = {"", "A(", "A(B,", " W ", " W 1+", " W ^", " W A(", " W $D(", " S ", " S (A,", " S A=", " K ", " K (", " K (A,", " N ", " N (", " N (A,", " TS (", " TS (A,", " F ", " L ", " L +(A,", " M ", " M A=", " R ", " D ",
@@ -483,6 +504,18 @@ public final class BoundaryTextTest extends Boundary {
             fine(" W " + "-".repeat(14) + (kinds[i].startsWith("A?") ? "(" + kinds[i].substring(0, 1) + ")" : kinds[i]));
             if (!kinds[i].startsWith("A?")) faultAt(" W " + "-".repeat(15) + kinds[i], 3 + 15 + at[i]);
         }
+        for (String front : new String[] {" M A(", " M ^A(1,", " M A=B(", " R A(", " R A:", " K A(", " K A,B(", " S A(", " S A(1,", " S ^A(1,2,3,4,5,", " L A(", " L -A(1,", " L A:", " L (A):", " M @A@(", " K @A@(", " R @A@(", " S @A@(1,", " W $D(A(", " W $G(A(", " W $G(A,", " W $NA(A,", " W $O(A(", " W $O(A,", " W $Q(A(1,",
+            " W $T(+", " W $T(A+", " W ?", " W !?", " R !?", " R ?", " TS:", " Q:", " Q ", " F I=", " F I=1:1:", " F I=1,2:", " X 1:", " D A:", " W A(1,", " W ^A(1,2,", " W ^(1,", " W $P(A,B,C,", " W $S(1:2,", " W $S(1:", " D A(1,2,", " W $$A(.B,", " S $P(A,", " S $P(A,1,2,", " S $E(A,1,", " S ($P(A,1),$E(B,", " W A?1A,", " D A+", " G +", " J A+", " J A(1,"}) {
+            int left = 15 - front.replaceAll("[^(]", "").length() + front.replaceAll("[^)]", "").length();
+            int bad = fault(front + "(".repeat(left) + "1" + ")".repeat(left));
+            due("15 behind " + front, bad == -1 || bad >= front.length() + 2 * left + 1 ? 1 : bad, 1);
+            faultAt(front + "(".repeat(left + 1), front.length() + left);
+            faultAt(front + "-".repeat(left + 1), front.length() + left);
+        }
+        says("(a text of its own)");
+        runs("S A=5,X=`A`_$TR($J(``,15),` `,`(`)_1_$TR($J(``,15),` `,`)`),@X=7 W A(1)", "7", "S A=5,X=`A`_$TR($J(``,16),` `,`(`)_1_$TR($J(``,16),` `,`)`),@X=7 W A(1)", "{,Z3,}", "S X=$TR($J(``,15),` `,`-`)_1 W @X", "-1", "S X=$TR($J(``,16),` `,`-`)_1 W @X", "{,Z3,}",
+            "S X=`W `_$TR($J(``,15),` `,`(`)_1_$TR($J(``,15),` `,`)`) X X", "1", "S X=`W `_$TR($J(``,16),` `,`(`)_1_$TR($J(``,16),` `,`)`) X X", "{,Z3,}");
+        says("a ( of any kind, or + - ' @ of an ATOM, with which more than 15 would be open");
         String[] fronts = {" S (", " S (A,", " L (", " L +(A,", " S $P(", " S $E(", " D A(", " J A(1,", " D ^A(", " K A(", " W @A@(", " W $$A(", " S ($P(", " S ($E(", " W $S(1:", " W $C(1,"};
         int[] opened = {1, 1, 1, 1, 1, 1, 1, 1, 1, 1, 1, 1, 2, 2, 1, 1};
         for (int i = 0; i < fronts.length; i++) {
