@@ -571,7 +571,7 @@ public final class BoundaryCommandTest extends Boundary {
         run("AB S B=1 K  W $D(B)", "D ^R", "0");
         run("AB S B=1 X `N  W $D(B)` N  W $D(B)", "D ^R", "00");
         says("names come and go: there is always room for them");
-        runs("F I=1:1:1700 S @(`A`_I)=1 K @(`A`_I) I I=1700 W 5", "5", "F I=1:1:1700 S N=`A`_I X `N @N S @N=1` I I=1700 W 5", "5", "F I=1:1:1700 S N=`A`_I X `N (N) S @N=1` I I=1700 W 5", "5", "F I=1:1:1700 S @(`A`_I)=1 K (I) I I=1700 W 5", "5");
+        runs("F I=1:1:4500 S @(`A`_I)=1 K @(`A`_I) W:I=4500 5", "5", "F I=1:1:1700 S N=`A`_I X `N @N S @N=1` I I=1700 W 5", "5", "F I=1:1:1700 S N=`A`_I X `N (N) S @N=1` I I=1700 W 5", "5", "F I=1:1:1700 S @(`A`_I)=1 K (I) I I=1700 W 5", "5");
         run("F(X) Q", "F I=1:1:1700 S N=`F^R(.A`_I_`)` D @N I I=1700 W 5", "5");
         run("F(X) S X=1 K X Q", "F I=1:1:1700 S N=`F^R(.A`_I_`)` D @N I I=1700 W 5", "5");
     }

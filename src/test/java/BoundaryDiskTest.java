@@ -452,8 +452,9 @@ public final class BoundaryDiskTest extends Boundary {
         due("routines", h.house.count(0), 0);
         due("no such one", h.run("W $T(^R) D ^R"), "{,M13,}");
         says("each process begins anew");
-        h = house("I 1 W !!,`abc` S A=1,A(1)=2 N A S A=3 TS (A) TRE:$TR<1  S $EC=`,a,` ", "W 1/0", "S ^A=1,B=1,$ET=`R X` F I=1 F J=1 S (X,Y,Z)=$$F^R W 1/0", "L A R X", "S (A,B,C)=1 R X");
-        turns(h, 60);
+        h = house("I 1 W !!,`abc` S A=1,A(1)=2 N A S A=3 TS (A) TRE:$TR<1  S $EC=`,a,` ", "W 1/0", "S ^A=1,B=1,$ET=`R X` F I=1 F J=1 S (X,Y,Z)=$$F^R W 1/0", "L A R X", "TS () TRE:$TR<2  S (A,B,C)=1,$ET=2 R X");
+        turns(h, 80);
+        due("$TRESTART", h.house.state(4, 4), 2);
         h.house.cut(0, 0);
         h.house.sync();
         h.house.start();

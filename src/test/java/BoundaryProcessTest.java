@@ -509,9 +509,9 @@ public final class BoundaryProcessTest extends Boundary {
         runs("S A=1,A(1)=2,B=3 TS (A) W A,A(1),B,` ` S A=5,A(1)=6,A(2)=7,B=8 TRE:$TR<1  W $D(A(2))", "123 128 1", "S A=1,B=2 TS * W A,B,$D(C),` ` S A=5 K B S C=7 TRE:$TR<1", "120 121 ", "S A=1 TS () W A S A=2 TRE:$TR<1", "12", "TS (A) W $D(A) S A=1 TRE:$TR<1", "00", "S A=1 TS (A) W $D(A) K A TRE:$TR<1", "11",
             "S A=1 TS (B) W A S A=2 TRE:$TR<1", "12", "S A=1 TS (A,A) W A S A=2 TRE:$TR<1", "11");
         runs("S A=1,A(1)=2,X=$QS(`B(5)`,1) TS (A) W A,A(1) S A=5 K A(1) S A(7)=1,X=$QS(`B(5)`,1) TRE:$TR<1  W $D(A(7))", "12121", "S A=1,X=$D(B(3)) TS (A) W A,$D(A(3)) S A(3)=5,X=$D(B(3)) TRE:$TR<1  W $O(A(``))", "10103");
-        House many = house("S A=1 TS (A) S A=2 TRE");
-        turns(many, 16000);
-        due("however often", many.house.state(0, 0) + many.code(0) + (many.house.count(8) > 5000 ? 1 : 0), "01");
+        House many = house("S A=1 TS (A) W:$TR#1000=0 A S A=2 TRE");
+        turns(many, 20300);
+        due("however often", many.house.state(0, 0) + many.code(0) + many.written(0) + many.house.count(8) / 1000, "01111115");
         many = house("S A=1 TS (A) TC  R X");
         turns(many, 20);
         many.process("S B=2,C=3 R X");
