@@ -2800,11 +2800,14 @@ public final class MumpsHouse {
             if (living < 1) return NONE;
             house.x = next(house.x);
             int k = (int) ((house.x >>> 33) % living);
+            Proc chosen = null;
             for (int i = 0; i < procCount; i++) {
                 Proc p = living(i);
-                if (p != null && k-- == 0) proc = p;
+                if (p != null && k-- == 0) chosen = p;
             }
-            work = proc.work;
+            if (chosen == null || chosen.work == null || chosen.work.text == null) return NONE;
+            proc = chosen;
+            work = chosen.work;
             house.counts[TURNS]++;
             error = 0;
             phase = GOING;
